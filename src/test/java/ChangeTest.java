@@ -95,6 +95,9 @@ public final class ChangeTest {
         Check.is("promise 56: it stays", 4, () -> x.weightOf(1, 4));
         Check.is("promise 56: another 0 is fine", 0, () -> x.setWeight(1, 1, 0));
         Check.badArgument("promise 56: a wrong face and the weight 0", () -> x.setWeight(1, 5, 0));
+        DiceAudit y = Check.loaded(Check.HALL + "die 1 0;");
+        Check.is("promise 56: a 0 beside the first face", 0, () -> y.setWeight(0, 2, 0));
+        Check.badState("promise 56: the first face has the last weight", () -> y.setWeight(0, 1, 0));
         Check.is("promise 56: only what was done is remembered", 3, x::undoDepth);
         Check.is("promise 56: another weight", 4, () -> x.setWeight(1, 4, 1));
     }

@@ -45,6 +45,7 @@ public final class HallTest {
             Check.noIndex("promise 15: die " + no, () -> x.isBalanced(no) ? 1 : 0);
             Check.noIndex("promise 16: die " + no, () -> x.heaviestFace(no));
         }
+        Check.is("promise 16: no weight above 1", 2, () -> Check.loaded(Check.HALL + "die 0 1 1;").heaviestFace(0));
         Check.is("promise 14: the first face", 0, () -> x.weightOf(0, 1));
         Check.is("promise 14: the last face", 4, () -> x.weightOf(0, 4));
         Check.is("promise 14: of twelve", 9, () -> x.weightOf(2, 12));

@@ -53,6 +53,8 @@ public final class LoadTest {
         wrong("hall 1 1 1;dies 1 1;", 1, 11);
         wrong("hall 1 1 1;di 1 1;", 1, 11);
         wrong("hall 1 1 1;Die 1 1;", 1, 11);
+        wrong("hall 1 1 1;tie 1 1;", 1, 11);
+        wrong("hall 1 1 1;did 1 1;", 1, 11);
         wrong("hall 1 1 1;die 1 1;player`", 1, 25);
         wrong("hall 1 1 1;die 1 1;player{", 1, 25);
         wrong("hall 1 1 1;die 1 1/", 1, 18);

@@ -10,6 +10,7 @@ public final class PairTest {
         scores();
         limits();
         worst();
+        corners();
         Check.finish("PairTest");
     }
 
@@ -114,11 +115,31 @@ public final class PairTest {
         String before = Check.HALL + "die 0 1;die 1 0;player a;player b;";
         Check.is("promise 37: the smallest player", 1, () -> Check.loaded(before + "throw b 0 2;throw a 1 2;").worstPair());
         Check.is("promise 37: the smallest die", 10, () -> Check.loaded(before + "throw b 1 2;throw b 0 2;").worstPair());
+        Check.is("promise 37: the score 1", 11, () -> Check.loaded(before + "throw b 1 1;").worstPair());
         Check.is("promise 37: the greatest score", 11, () -> Check.loaded(before + "throw a 0 2;throw b 1 3;").worstPair());
         DiceAudit x = Check.loaded(before + "throw b 0 1;");
         x.setWeight(0, 1, 1);
         x.setWeight(0, 2, 0);
         x.throwDie(1, 0, 1);
         Check.is("promise 37: all scores are 0", 0, x::worstPair);
+    }
+
+    /** One throw of the last face by the last pair that there can be. */
+    private static void corners() {
+        DiceAudit x = Check.loaded("hall 1 1 0;" + "die 0 1;".repeat(5) + "die 0 0 0 0 0 0 0 0 0 0 0 1;"
+            + "player a;player b;player c;player d;player e;player f;throw f 5 1;");
+        Check.is("promise 29: the last pair", 1, () -> x.throwsOfPair(5, 5));
+        Check.is("promise 30: face 12", 1, () -> x.frequency(5, 5, 12));
+        Check.is("promise 30: face 11", 0, () -> x.frequency(5, 5, 11));
+        Check.is("promise 31: one throw", 12, () -> x.commonFace(5, 5));
+        Check.is("promise 32: face 12", 1, () -> x.facesSeen(5, 5));
+        Check.is("promise 33: the only throw", 0, () -> x.latestThrow(5, 5));
+        Check.is("promise 34: face 12", 11, () -> x.score(5, 5));
+        Check.is("promise 37: the last pair", 55, x::worstPair);
+        Check.is("promise 46: face 12 before", 11, () -> x.scoreAfter(5, 5, 0));
+        Check.is("promise 46: face 12 before and after", 33, () -> x.scoreAfter(5, 5, 2));
+        Check.is("promise 53: the last pair", 1, x::audit);
+        Check.is("promise 39: the last player", 5, () -> x.offencePlayer(0));
+        Check.is("promise 40: the last die", 5, () -> x.offenceDie(0));
     }
 }

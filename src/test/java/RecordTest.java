@@ -68,6 +68,8 @@ public final class RecordTest {
         rank("the first state", new DiceAudit(), 0, 1, 2);
         DiceAudit x = Check.loaded(Check.HALL + "die 0 0 1;player a;player b;player c;throw b 0 3;throw c 0 9;throw a 0 5;");
         rank("by total", x, 2, 0, 1);
+        rank("by a total that is greater by 1",
+            Check.loaded(Check.HALL + "die 1 0;player a;player b;throw a 0 3;throw b 0 4;"), 1, 0);
     }
 
     private static void sameTotals() {
