@@ -37,6 +37,7 @@ final class ChangePromises {
         many.audit();
         many.absolve();
         Check.is("300 fair throws", 0, () -> call.answer(many, 0));
+        Check.is("the first and the last face of all", 0, () -> call.answer(PairPromises.neighbours(), 0));
     }
 
     private static void differences() {
@@ -66,6 +67,11 @@ final class ChangePromises {
             many.audit();
             many.absolve();
             Check.is("300 of 300", 1.0f, many::fairShare);
+            Halls.load(many, "hall 1 1 0;die 0 1;player a;throw a 0 1;audit;absolve;throw a 0 1;");
+            Check.is("1 of 2", 0.5f, many::fairShare);
+            Halls.load(many, "hall 1 1 0;die 0 1;player a;throw a 0 5;audit;absolve;");
+            Halls.load(many, "hall 1 1 0;die 0 1;player a;throw a 0 3;");
+            Check.is("none of 3, after a text with 5 of 5", 0.0f, many::fairShare);
         });
         Doc.says("0.0f if there are none.", () -> {
             DiceAudit x = Halls.empty();
@@ -177,6 +183,7 @@ final class ChangePromises {
             Check.is("0 to 0", 0, () -> x.setWeight(0, 6, 0));
             Check.is("0 to 9", 0, () -> x.setWeight(0, 6, 9));
             Check.is("9 to 9", 9, () -> x.setWeight(0, 6, 9));
+            Check.is("1 to 1, of two faces", 1, () -> Halls.loaded("hall 1 1 1;die 1 1;").setWeight(0, 2, 1));
         });
     }
 

@@ -32,6 +32,9 @@ final class ForecastPromises {
             y.setSeed(Halls.before(0));
             Check.is("the seed becomes 0", 1, () -> y.nextFace(0));
             Check.is("a full record", 2, () -> Halls.full().nextFace(5));
+            DiceAudit z = Halls.loaded("hall 0 1 1;die 9 9 9 9 9 9 9 9 9 9 9 9;die 1 1;die 0 1;");
+            Check.is("behind a die of twelve faces", 1, () -> z.nextFace(1));
+            Check.is("behind a die of two faces", 2, () -> z.nextFace(2));
         });
         Doc.says(NO_DIE, () -> Missing.die(DiceAudit::nextFace));
     }
@@ -143,6 +146,25 @@ final class ForecastPromises {
         Doc.says(NO_COUNT, () -> Missing.outOfRange(0, 50, (x, count) -> x.scoreAfter(0, 0, count)));
     }
 
+    /** Throws each die of each player one by one, with some limits, until the pair is suspicious. */
+    private static void asThrown(DiceAudit x) {
+        for (int pair = 0; pair < x.playerCount() * x.dieCount(); pair++) {
+            int player = pair / x.dieCount();
+            int die = pair % x.dieCount();
+            x.setLimits(7 + pair % 3, 2 + pair % 5);
+            int seed = 1000 * pair;
+            x.setSeed(seed);
+            int foreseen = x.throwsUntilSuspicious(player, die);
+            int made = 0;
+            while (made < 50 && !x.isSuspicious(player, die)) {
+                x.throwDie(player, die, 1);
+                made++;
+            }
+            int due = x.isSuspicious(player, die) ? made : DiceAudit.NONE;
+            Check.is("player " + player + ", die " + die, due, () -> foreseen);
+        }
+    }
+
     private static void throwsUntilSuspicious() {
         Doc.promise(47);
         Doc.says("Returns the smallest number of throws, 0 to 50, after which the pair would be suspicious if the player threw the die now,"
@@ -162,6 +184,10 @@ final class ForecastPromises {
             Check.is("341 throws", 41, () -> z.throwsUntilSuspicious(0, 0));
             z.setLimits(99, 349);
             Check.is("350 throws", 50, () -> z.throwsUntilSuspicious(0, 0));
+            Check.is("the face 12 counts", 3,
+                () -> Halls.loaded("hall 1 3 0;die 0 0 0 0 0 0 0 0 0 0 0 1;player a;").throwsUntilSuspicious(0, 0));
+            asThrown(new DiceAudit());
+            asThrown(PairPromises.neighbours());
         });
         Doc.says("NONE if there is none.", () -> {
             DiceAudit x = Halls.loaded("hall 1 51 0;die 0 1;player a;player b;throw a 0 1;");

@@ -159,6 +159,12 @@ final class InputPromises {
             Check.same("nothing of the state before is left", "3 4 5", Halls.state(x));
             Halls.load(x, "hall 4 2 1;die 0 1;player zoe;throw zoe 0 3;");
             Check.same("a smaller hall than an earlier one", "12190 2 1 die 0 1 zoe 00:2 00:2 00:2", Halls.state(x));
+            DiceAudit y = Halls.loaded(Halls.STRICT + "die 1 2 3 4 5 6 7 8 9 0 1 2;player abcd;throw abcd 0 50;");
+            Halls.load(y, Halls.STRICT + "die 3 3;player a;");
+            Check.same("smaller dice and shorter names", "1 1 0 die 3 3 a", Halls.state(y));
+            Check.yes("no weight of the die before", () -> y.isBalanced(0));
+            Check.is("no heavier face of the die before", 1, () -> y.heaviestFace(0));
+            Check.is("no throws before", 0, () -> y.facesSeen(0, 0));
         });
         Doc.says("The input buffer is empty afterwards, also if the text has an error.", () -> {
             DiceAudit x = new DiceAudit();

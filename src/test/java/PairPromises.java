@@ -34,6 +34,12 @@ final class PairPromises {
         return Halls.loaded(Halls.STRICT + "die 0 1;".repeat(5) + ALWAYS_12 + Halls.SIX_PLAYERS + "throw f 5 1;");
     }
 
+    /** The last face of one pair stands beside the first face of the next one: 0 0 and 0 1, and 0 5 and 1 0. */
+    static DiceAudit neighbours() {
+        return Halls.loaded(Halls.STRICT + ALWAYS_12 + "die 1 0;".repeat(4) + ALWAYS_12 + Halls.SIX_PLAYERS
+            + "throw a 0 3;throw a 1 2;throw a 5 4;throw f 5 1;");
+    }
+
     /** A die of three faces that has shown its faces so many times. */
     private static DiceAudit shown(int ones, int twos, int threes) {
         DiceAudit x = Halls.loaded(Halls.STRICT + "die 1 0 0;player a;" + times(ones));
@@ -63,6 +69,8 @@ final class PairPromises {
             Check.is("300", 300, () -> Halls.manyThrows("die 0 1;").throwsOfPair(0, 0));
             Check.is("the last pair", 1, () -> lastPair().throwsOfPair(5, 5));
             Check.is("the pair before it", 0, () -> lastPair().throwsOfPair(5, 4));
+            Check.is("a pair between two others", 2, () -> neighbours().throwsOfPair(0, 1));
+            Check.is("no throws beside the last die of another player", 0, () -> neighbours().throwsOfPair(1, 0));
         });
         Doc.says(NO_PAIR, () -> Missing.pair(DiceAudit::throwsOfPair));
     }
@@ -97,6 +105,7 @@ final class PairPromises {
             Check.is("the face between", 2, () -> shown(2, 3, 2).commonFace(0, 0));
             Check.is("the last face", 3, () -> shown(2, 2, 3).commonFace(0, 0));
             Check.is("one throw of the face 12", 12, () -> lastPair().commonFace(5, 5));
+            Check.is("a pair beside another's face 12", 1, () -> neighbours().commonFace(0, 1));
         });
         Doc.says("the smallest number if several have it", () -> {
             Check.is("all of them", 1, () -> shown(2, 2, 2).commonFace(0, 0));
@@ -122,6 +131,8 @@ final class PairPromises {
             Check.is("one that was thrown once", 1, () -> shown(0, 0, 1).facesSeen(0, 0));
             Check.is("all, the first and the last once", 3, () -> shown(1, 2, 1).facesSeen(0, 0));
             Check.is("the face 12", 1, () -> lastPair().facesSeen(5, 5));
+            Check.is("a pair beside another's face 12", 1, () -> neighbours().facesSeen(0, 1));
+            Check.is("no throws beside another player's face 12", 0, () -> neighbours().facesSeen(1, 0));
         });
         Doc.says(NO_PAIR, () -> Missing.pair(DiceAudit::facesSeen));
     }
@@ -150,6 +161,8 @@ final class PairPromises {
         Doc.says("Returns the score of the pair.", () -> {
             firstState(DiceAudit::score, 8, 3, 0, 17, 10, 0);
             Check.is("of the last pair", 11, () -> lastPair().score(5, 5));
+            Check.is("of a pair beside another's face 12", 2, () -> neighbours().score(0, 1));
+            Check.is("no throws beside another player's face 12", 0, () -> neighbours().score(1, 0));
         });
         Doc.says(NO_PAIR, () -> Missing.pair(DiceAudit::score));
     }

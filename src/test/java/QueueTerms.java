@@ -138,6 +138,9 @@ final class QueueTerms {
             y.absolve();
             Check.same("two of four throws of the pair stay", " 00:2 00:2 10:2 20:2 11:2", Halls.record(y).substring(0, 25));
             Check.is("the number of all", 7, y::throwCount);
+            DiceAudit z = Halls.loaded(TEXT + "throw b 0 1;throw a 0 1;throw c 0 1;throw a 0 1;audit;throw b 1 3;throw a 0 2;");
+            z.absolve();
+            Check.same("others before those that stay", " 10:2 00:2 20:2 00:2 11:2 11:2 11:2", Halls.record(z).substring(0, 35));
         });
     }
 

@@ -114,6 +114,10 @@ final class RecordPromises {
             DiceAudit y = Halls.full();
             Check.is("the first of six players", 60, () -> y.throwsOf(0));
             Check.is("the last of six players", 48, () -> y.throwsOf(5));
+            DiceAudit z = PairPromises.neighbours();
+            Check.is("the last face of the last die", 9, () -> z.throwsOf(0));
+            Check.is("none beside it", 0, () -> z.throwsOf(1));
+            Check.is("the last face of all", 1, () -> z.throwsOf(5));
         });
         Doc.says(NO_PLAYER, () -> Missing.player(DiceAudit::throwsOf));
     }
@@ -126,6 +130,10 @@ final class RecordPromises {
             Check.is("with one die", 31, () -> x.total(1));
             Check.is("with the other die", 2, () -> x.total(2));
             Check.is("no throws", 0, () -> Halls.loaded(Halls.HALL + "player a;").total(0));
+            DiceAudit y = PairPromises.neighbours();
+            Check.is("the last face of the last die", 36 + 2 + 48, () -> y.total(0));
+            Check.is("none beside it", 0, () -> y.total(1));
+            Check.is("the last face of all", 12, () -> y.total(5));
             Check.is("the greatest", 3600, () -> Halls.manyThrows("die 0 0 0 0 0 0 0 0 0 0 0 1;").total(0));
         });
         Doc.says(NO_PLAYER, () -> Missing.player(DiceAudit::total));

@@ -390,6 +390,20 @@ final class TextTerms {
             wrong(DIE + "player a;throw a 0 ", "51;", 2);
             right(SIX_DICE + "player a;throw a 5 1;", "149 1 1 die 0 1 die 0 1 die 0 1 die 0 1 die 0 1 die 0 1 a 05:2");
         });
+        Doc.says("2 a number is out of range (also a DIE that does not exist)", () -> {
+            // One more than 16, 32, 64 and 128 bits hold: with a wrap-around each of them would be 1, or 0.
+            for (String number : new String[] {"65537", "4294967297", "18446744073709551617", "340282366920938463463374607431768211457",
+                "4294967296", "18446744073709551616", "2147483648", "9223372036854775808"}) {
+                wrong("hall ", number + " 1 1;", 2);
+                wrong("hall 1 ", number + " 1;", 2);
+                wrong("hall 1 1 ", number + ";", 2);
+                wrong(HALL + "die ", number + " 1;", 2);
+                wrong(HALL + "die 1 ", number + ";", 2);
+                wrong(TWELVE + " ", number + ";", 2);
+                wrong(SIX_DICE + "player a;throw a ", number + " 1;", 2);
+                wrong(DIE + "player a;throw a 0 ", number + ";", 2);
+            }
+        });
         Doc.says("a new name of more than 4 letters", () -> {
             wrong(HALL + "player ", "abcde;", 2);
             wrong(HALL + "player ", "player;", 2);
