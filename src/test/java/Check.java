@@ -64,26 +64,26 @@ final class Check {
         }
     }
 
-    /** A refused call throws just this exception and changes nothing that can be seen. */
-    static void refused(String what, Class<? extends RuntimeException> want, DiceAudit hall, Call call) {
-        String before = Halls.allThatIsSeen(hall);
+    /** A refused call throws just this exception and changes nothing at all. */
+    static void refused(String what, Class<? extends RuntimeException> want, Audit hall, Call call) {
+        String before = Halls.everything(hall);
         isThrown(what, want, call);
-        same(what + ", nothing changed", before, Halls.allThatIsSeen(hall));
+        same(what + ", nothing changed", before, Halls.everything(hall));
     }
 
-    static void noIndex(String what, DiceAudit hall, Call call) {
+    static void noIndex(String what, Audit hall, Call call) {
         refused(what, IndexOutOfBoundsException.class, hall, call);
     }
 
-    static void badArgument(String what, DiceAudit hall, Call call) {
+    static void badArgument(String what, Audit hall, Call call) {
         refused(what, IllegalArgumentException.class, hall, call);
     }
 
-    static void badState(String what, DiceAudit hall, Call call) {
+    static void badState(String what, Audit hall, Call call) {
         refused(what, IllegalStateException.class, hall, call);
     }
 
-    static void noElement(String what, DiceAudit hall, Call call) {
+    static void noElement(String what, Audit hall, Call call) {
         refused(what, NoSuchElementException.class, hall, call);
     }
 

@@ -4,6 +4,7 @@ import java.nio.file.Path;
 import java.util.Arrays;
 import java.util.LinkedHashMap;
 import java.util.LinkedHashSet;
+import java.util.List;
 import java.util.Map;
 import java.util.Set;
 
@@ -23,14 +24,18 @@ final class Doc {
     private Doc() {
     }
 
+    /** None if the document is not there. */
+    static List<String> lines() throws IOException {
+        return Files.exists(FILE) ? Files.readAllLines(FILE) : List.of();
+    }
+
     /** What stands on both sides of a semicolon are two sentences here: each has a test of its own. */
     static void read() throws IOException {
         if (!Files.exists(FILE)) {
             System.out.println("no " + FILE + ": the sentences of the tests are not compared with it");
-            return;
         }
         String part = "";
-        for (String line : Files.readAllLines(FILE)) {
+        for (String line : lines()) {
             if (line.startsWith("## ")) {
                 part = line.matches("## (Promise \\d+:.*|Terms)") ? line.substring(3).replaceFirst(":.*", "") : "";
                 promiseOrTerms(part);

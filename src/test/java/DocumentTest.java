@@ -1,9 +1,10 @@
 import java.io.IOException;
 
-/** Goes through the sentences of the document, the promises first, then the terms. */
+/** Goes through the document: the public face, then the sentences of the promises, then those of the terms. */
 public final class DocumentTest {
-    public static void main(String[] args) throws IOException {
+    public static void main(String[] args) throws IOException, ReflectiveOperationException {
         Doc.read();
+        PublicFace.test();
         InputPromises.test();
         HallPromises.test();
         RecordPromises.test();

@@ -18,11 +18,11 @@ final class ForecastPromises {
     private static void nextFace() {
         Doc.promise(43);
         Doc.says("Returns the face that the die would show if it was thrown now.", () -> {
-            DiceAudit x = new DiceAudit();
+            Audit x = new Audit();
             Check.is("die 0", 6, () -> x.nextFace(0));
             Check.is("die 1", 4, () -> x.nextFace(1));
             Check.is("asked again", 6, () -> x.nextFace(0));
-            DiceAudit y = Halls.loaded("hall 0 1 1;die 1 1 1 1 1;die 0 0 3;die 2 0 3;");
+            Audit y = Halls.loaded("hall 0 1 1;die 1 1 1 1 1;die 0 0 3;die 2 0 3;");
             // The seed 0 becomes 74; 74 % 5 is 4 for die 0 and for die 2.
             Check.is("the last face", 5, () -> y.nextFace(0));
             Check.is("the only face with a weight", 3, () -> y.nextFace(1));
@@ -32,17 +32,17 @@ final class ForecastPromises {
             y.setSeed(Halls.before(0));
             Check.is("the seed becomes 0", 1, () -> y.nextFace(0));
             Check.is("a full record", 2, () -> Halls.full().nextFace(5));
-            DiceAudit z = Halls.loaded("hall 0 1 1;die 9 9 9 9 9 9 9 9 9 9 9 9;die 1 1;die 0 1;");
+            Audit z = Halls.loaded("hall 0 1 1;die 9 9 9 9 9 9 9 9 9 9 9 9;die 1 1;die 0 1;");
             Check.is("behind a die of twelve faces", 1, () -> z.nextFace(1));
             Check.is("behind a die of two faces", 2, () -> z.nextFace(2));
         });
-        Doc.says(NO_DIE, () -> Missing.die(DiceAudit::nextFace));
+        Doc.says(NO_DIE, () -> Missing.die(Audit::nextFace));
     }
 
     private static void faceAfter() {
         Doc.promise(44);
         Doc.says("`count`: a number of throws, 1 to 200", () -> {
-            DiceAudit x = new DiceAudit();
+            Audit x = new Audit();
             int[] seeds = new int[201];
             seeds[0] = 23634;
             for (int made = 1; made <= 200; made++) {
@@ -53,7 +53,7 @@ final class ForecastPromises {
             }
         });
         Doc.says("Returns the face that the die would show in the last one of so many throws, if nothing else was thrown from now on.", () -> {
-            DiceAudit x = new DiceAudit();
+            Audit x = new Audit();
             int[] even = {6, 3, 4, 4, 4, 1, 3, 1, 1, 4, 2, 5, 2, 3, 6, 3, 1, 1, 5, 2};
             int[] loaded = {4, 4, 4, 4, 4, 2, 4, 2, 2, 4, 3, 4, 3, 4, 4, 4, 2, 2, 4, 3};
             for (int i = 0; i < even.length; i++) {
@@ -70,33 +70,33 @@ final class ForecastPromises {
     private static void throwsUntil() {
         Doc.promise(45);
         Doc.says("`face`: a face, from 1", () -> {
-            DiceAudit x = new DiceAudit();
+            Audit x = new Audit();
             Check.is("the first face", 6, () -> x.throwsUntil(0, 1));
             Check.is("the last face", 1, () -> x.throwsUntil(0, 6));
         });
         Doc.says("Returns the number of throws of the die, 1 to 200, with the last of which it would show this face for the first time", () -> {
-            DiceAudit x = new DiceAudit();
+            Audit x = new Audit();
             int[] due = {6, 11, 2, 3, 12, 1};
             for (int i = 0; i < due.length; i++) {
                 int face = i + 1;
                 Check.is("die 0, face " + face, due[i], () -> x.throwsUntil(0, face));
             }
             Check.is("die 1, face 2", 6, () -> x.throwsUntil(1, 2));
-            DiceAudit y = Halls.loaded("hall " + seedWithFirstThrow(200) + " 1 1;die 1 9 9 9 9 9 9 9 9 9 9 9;");
+            Audit y = Halls.loaded("hall " + seedWithFirstThrow(200) + " 1 1;die 1 9 9 9 9 9 9 9 9 9 9 9;");
             Check.is("just 200 throws", 200, () -> y.throwsUntil(0, 1));
             y.setSeed(seedWithFirstThrow(199));
             Check.is("199 throws", 199, () -> y.throwsUntil(0, 1));
         });
         Doc.says("NONE if not within 200 throws.", () -> {
-            DiceAudit x = new DiceAudit();
+            Audit x = new Audit();
             Check.is("a face without weight", -1, () -> x.throwsUntil(1, 1));
-            DiceAudit y = Halls.loaded("hall " + seedWithFirstThrow(201) + " 1 1;die 1 9 9 9 9 9 9 9 9 9 9 9;");
+            Audit y = Halls.loaded("hall " + seedWithFirstThrow(201) + " 1 1;die 1 9 9 9 9 9 9 9 9 9 9 9;");
             Check.is("201 throws", -1, () -> y.throwsUntil(0, 1));
             y.setSeed(65536);
             Check.is("the seed that stays as it is", -1, () -> y.throwsUntil(0, 1));
         });
         Doc.says(NO_DIE, () -> Missing.die((x, die) -> x.throwsUntil(die, 1)));
-        Doc.says("Throws `IllegalArgumentException` if the face is not a face of the die", () -> Missing.face(DiceAudit::throwsUntil));
+        Doc.says("Throws `IllegalArgumentException` if the face is not a face of the die", () -> Missing.face(Audit::throwsUntil));
     }
 
     /** A seed with which a face with the weight 1 of 100, the first one, is first shown by this throw. */
@@ -118,7 +118,7 @@ final class ForecastPromises {
     private static void scoreAfter() {
         Doc.promise(46);
         Doc.says("`count`: a number of throws, 0 to 50", () -> {
-            DiceAudit x = Halls.loaded(Halls.STRICT + "die 0 1;player a;player b;throw a 0 3;");
+            Audit x = Halls.loaded(Halls.STRICT + "die 0 1;player a;player b;throw a 0 3;");
             Check.is("none", 3, () -> x.scoreAfter(0, 0, 0));
             Check.is("one", 4, () -> x.scoreAfter(0, 0, 1));
             Check.is("fifty", 53, () -> x.scoreAfter(0, 0, 50));
@@ -126,7 +126,7 @@ final class ForecastPromises {
             Check.is("fifty by a pair without throws", 50, () -> x.scoreAfter(1, 0, 50));
         });
         Doc.says("Returns the score of the pair if the player threw the die so many times now, also if the record would have more than 300 throws.", () -> {
-            DiceAudit x = new DiceAudit();
+            Audit x = new Audit();
             Check.is("no throw", 10, () -> x.scoreAfter(2, 0, 0));
             // Faces 1 1 6: 6 * (4 + 1) - 9 = 21 and 21 / 3 = 7; with 3: 6 * 6 - 16 = 20 and 20 / 4 = 5.
             Check.is("one throw", 7, () -> x.scoreAfter(2, 0, 1));
@@ -147,7 +147,7 @@ final class ForecastPromises {
     }
 
     /** Throws each die of each player one by one, with some limits, until the pair is suspicious. */
-    private static void asThrown(DiceAudit x) {
+    private static void asThrown(Audit x) {
         for (int pair = 0; pair < x.playerCount() * x.dieCount(); pair++) {
             int player = pair / x.dieCount();
             int die = pair % x.dieCount();
@@ -169,36 +169,36 @@ final class ForecastPromises {
         Doc.promise(47);
         Doc.says("Returns the smallest number of throws, 0 to 50, after which the pair would be suspicious if the player threw the die now,"
             + " also if the record would have more than 300 throws", () -> {
-            DiceAudit x = new DiceAudit();
+            Audit x = new Audit();
             Check.is("suspicious already", 0, () -> x.throwsUntilSuspicious(0, 0));
             Check.is("four throws more", 4, () -> x.throwsUntilSuspicious(2, 0));
-            DiceAudit y = Halls.loaded("hall 1 50 0;die 0 1;player a;player b;throw a 0 1;");
+            Audit y = Halls.loaded("hall 1 50 0;die 0 1;player a;player b;throw a 0 1;");
             Check.is("just 50 throws", 50, () -> y.throwsUntilSuspicious(1, 0));
             Check.is("49 throws", 49, () -> y.throwsUntilSuspicious(0, 0));
             y.setLimits(1, 49);
             Check.is("the score 50", 50, () -> y.throwsUntilSuspicious(1, 0));
             y.setLimits(2, 0);
             Check.is("one throw", 1, () -> y.throwsUntilSuspicious(0, 0));
-            DiceAudit z = Halls.manyThrows("die 0 1;");
+            Audit z = Halls.manyThrows("die 0 1;");
             z.setLimits(99, 340);
             Check.is("341 throws", 41, () -> z.throwsUntilSuspicious(0, 0));
             z.setLimits(99, 349);
             Check.is("350 throws", 50, () -> z.throwsUntilSuspicious(0, 0));
             Check.is("the face 12 counts", 3,
                 () -> Halls.loaded("hall 1 3 0;die 0 0 0 0 0 0 0 0 0 0 0 1;player a;").throwsUntilSuspicious(0, 0));
-            asThrown(new DiceAudit());
+            asThrown(new Audit());
             asThrown(PairPromises.neighbours());
         });
         Doc.says("NONE if there is none.", () -> {
-            DiceAudit x = Halls.loaded("hall 1 51 0;die 0 1;player a;player b;throw a 0 1;");
+            Audit x = Halls.loaded("hall 1 51 0;die 0 1;player a;player b;throw a 0 1;");
             Check.is("51 throws would do", -1, () -> x.throwsUntilSuspicious(1, 0));
             Check.is("50 more of 51", 50, () -> x.throwsUntilSuspicious(0, 0));
             x.setLimits(1, 50);
             Check.is("the score 51 is too far", -1, () -> x.throwsUntilSuspicious(1, 0));
-            DiceAudit y = Halls.manyThrows("die 0 1;");
+            Audit y = Halls.manyThrows("die 0 1;");
             y.setLimits(99, 350);
             Check.is("the score 351 is too far", -1, () -> y.throwsUntilSuspicious(0, 0));
         });
-        Doc.says(NO_PAIR, () -> Missing.pair(DiceAudit::throwsUntilSuspicious));
+        Doc.says(NO_PAIR, () -> Missing.pair(Audit::throwsUntilSuspicious));
     }
 }

@@ -22,7 +22,7 @@ final class HallPromises {
             Check.is("of the text", 123, () -> Halls.loaded(TEXT).seed());
             Check.is("the least", 0, () -> Halls.loaded("hall 0 1 1;").seed());
             Check.is("the greatest", 65536, () -> Halls.loaded("hall 65536 1 1;").seed());
-            DiceAudit x = Halls.loaded("hall 1 1 1;die 1 1;player a;throw a 0 1;");
+            Audit x = Halls.loaded("hall 1 1 1;die 1 1;player a;throw a 0 1;");
             Check.is("after a throw of the text", 149, x::seed);
             x.throwDie(0, 0, 1);
             Check.is("after another throw", 11249, x::seed);
@@ -58,7 +58,7 @@ final class HallPromises {
         });
         Doc.promise(12);
         Doc.says("Returns the number of throws in the record.", () -> {
-            DiceAudit x = Halls.loaded(TEXT);
+            Audit x = Halls.loaded(TEXT);
             Check.is("none", 0, x::throwCount);
             x.throwDie(1, 1, 7);
             Check.is("seven", 7, x::throwCount);
@@ -72,27 +72,27 @@ final class HallPromises {
     private static void faces() {
         Doc.promise(13);
         Doc.says("Returns the number of its faces.", () -> {
-            DiceAudit x = Halls.loaded(TEXT);
+            Audit x = Halls.loaded(TEXT);
             int[] faces = {4, 2, 12, 3, 3};
             for (int i = 0; i < faces.length; i++) {
                 int die = i;
                 Check.is("die " + die, faces[die], () -> x.faces(die));
             }
         });
-        Doc.says("Throws `IndexOutOfBoundsException` if the die does not exist", () -> Missing.die(DiceAudit::faces));
+        Doc.says("Throws `IndexOutOfBoundsException` if the die does not exist", () -> Missing.die(Audit::faces));
     }
 
     private static void weightOf() {
         Doc.promise(14);
         Doc.says("`face`: a face, from 1", () -> {
-            DiceAudit x = Halls.loaded(Halls.HALL + "die 7 8 9;die 1 2 3 4 5 6 7 8 9 0 1 2;");
+            Audit x = Halls.loaded(Halls.HALL + "die 7 8 9;die 1 2 3 4 5 6 7 8 9 0 1 2;");
             Check.is("the first face", 7, () -> x.weightOf(0, 1));
             Check.is("the last face", 9, () -> x.weightOf(0, 3));
             Check.is("the first face of twelve", 1, () -> x.weightOf(1, 1));
             Check.is("the last face of twelve", 2, () -> x.weightOf(1, 12));
         });
         Doc.says("Returns the weight of the face.", () -> {
-            DiceAudit x = Halls.loaded(TEXT);
+            Audit x = Halls.loaded(TEXT);
             Check.is("the least weight", 0, () -> x.weightOf(0, 1));
             Check.is("the greatest weight", 9, () -> x.weightOf(2, 3));
             x.setWeight(2, 3, 0);
@@ -101,13 +101,13 @@ final class HallPromises {
             Check.is("the weight before", 9, () -> x.weightOf(2, 3));
         });
         Doc.says("Throws `IndexOutOfBoundsException` if the die does not exist", () -> Missing.die((x, die) -> x.weightOf(die, 1)));
-        Doc.says("Throws `IllegalArgumentException` if the face is not a face of the die", () -> Missing.face(DiceAudit::weightOf));
+        Doc.says("Throws `IllegalArgumentException` if the face is not a face of the die", () -> Missing.face(Audit::weightOf));
     }
 
     private static void isBalanced() {
         Doc.promise(15);
         Doc.says("Returns whether the die is balanced.", () -> {
-            DiceAudit x = Halls.loaded(TEXT);
+            Audit x = Halls.loaded(TEXT);
             boolean[] balanced = {false, true, false, false, false};
             for (int i = 0; i < balanced.length; i++) {
                 int die = i;
@@ -120,7 +120,7 @@ final class HallPromises {
     private static void heaviestFace() {
         Doc.promise(16);
         Doc.says("Returns the face with the greatest weight", () -> {
-            DiceAudit x = Halls.loaded(Halls.HALL + "die 9 8 8;die 8 8 9;die 0 1 0;die 8 9 8 8 8 8 8 8 8 8 8 8;"
+            Audit x = Halls.loaded(Halls.HALL + "die 9 8 8;die 8 8 9;die 0 1 0;die 8 9 8 8 8 8 8 8 8 8 8 8;"
                 + "die 0 0 0 0 0 0 0 0 0 0 0 1;");
             int[] heaviest = {1, 3, 2, 2, 12};
             for (int i = 0; i < heaviest.length; i++) {
@@ -129,7 +129,7 @@ final class HallPromises {
             }
         });
         Doc.says("the smallest number if several have it.", () -> {
-            DiceAudit x = Halls.loaded(Halls.HALL + "die 1 1;die 0 1 1;die 8 9 9;die 9 0 9;die 0 0 0 0 0 0 0 0 0 0 1 1;"
+            Audit x = Halls.loaded(Halls.HALL + "die 1 1;die 0 1 1;die 8 9 9;die 9 0 9;die 0 0 0 0 0 0 0 0 0 0 1 1;"
                 + "die 9 9 9 9 9 9 9 9 9 9 9 9;");
             int[] heaviest = {1, 2, 2, 1, 11, 1};
             for (int i = 0; i < heaviest.length; i++) {
@@ -137,13 +137,13 @@ final class HallPromises {
                 Check.is("die " + die, heaviest[die], () -> x.heaviestFace(die));
             }
         });
-        Doc.says("Throws `IndexOutOfBoundsException` if the die does not exist", () -> Missing.die(DiceAudit::heaviestFace));
+        Doc.says("Throws `IndexOutOfBoundsException` if the die does not exist", () -> Missing.die(Audit::heaviestFace));
     }
 
     private static void nameByte() {
         Doc.promise(17);
         Doc.says("`position`: a position in the name, from 0", () -> {
-            DiceAudit x = Halls.loaded(TEXT);
+            Audit x = Halls.loaded(TEXT);
             Check.is("the only position", 'q', () -> x.nameByte(0, 0));
             for (int i = 0; i < 4; i++) {
                 int position = i;
@@ -151,13 +151,13 @@ final class HallPromises {
             }
         });
         Doc.says("Returns the letter at this position as a byte.", () -> {
-            DiceAudit x = Halls.loaded(Halls.HALL + "player az;");
+            Audit x = Halls.loaded(Halls.HALL + "player az;");
             Check.is("the first letter", 97, () -> x.nameByte(0, 0));
             Check.is("the last letter", 122, () -> x.nameByte(0, 1));
         });
         Doc.says("Throws `IndexOutOfBoundsException` if the player does not exist", () -> Missing.player((x, player) -> x.nameByte(player, 0)));
         Doc.says("Throws `NoSuchElementException` if the name has no such position", () -> {
-            DiceAudit x = Halls.loaded(Halls.HALL + "player abcd;player z;player ab;player bcde;");
+            Audit x = Halls.loaded(Halls.HALL + "player abcd;player z;player ab;player bcde;");
             int[] lengths = {4, 1, 2, 4};
             for (int i = 0; i < lengths.length; i++) {
                 int player = i;

@@ -17,7 +17,7 @@ final class HallTerms {
     }
 
     private static void wrong(String text, int code, int position) {
-        DiceAudit x = new DiceAudit();
+        Audit x = new Audit();
         Halls.failLoad(x, text);
         Check.is("code of " + text, code, x::errorCode);
         Check.is("position of " + text, position, x::errorPosition);
@@ -29,13 +29,13 @@ final class HallTerms {
             Check.is("the least", 0, () -> Halls.loaded("hall 0 1 1;").seed());
             Check.is("the greatest", 65536, () -> Halls.loaded("hall 65536 1 1;").seed());
             wrong("hall 65537 1 1;", 2, 5);
-            DiceAudit x = new DiceAudit();
+            Audit x = new Audit();
             Check.badArgument("too small", x, () -> x.setSeed(-1));
             Check.badArgument("too large", x, () -> x.setSeed(65537));
         });
         Doc.says("There are at most 6 dice, numbered from 0 in the order of the input text.", () -> {
             String six = Halls.HALL + "die 1 1;die 2 2 2;die 3 3 3 3;die 4 4 4 4 4;die 5 5 5 5 5 5;die 6 6 6 6 6 6 6;";
-            DiceAudit x = Halls.loaded(six);
+            Audit x = Halls.loaded(six);
             Check.is("six", 6, x::dieCount);
             for (int i = 0; i < 6; i++) {
                 int die = i;
@@ -45,7 +45,7 @@ final class HallTerms {
             wrong(six + "die 1 1;", 5, six.length());
         });
         Doc.says("A die has 2 to 12 faces, numbered from 1, and each face has a weight (0 to 9)", () -> {
-            DiceAudit x = Halls.loaded(Halls.HALL + "die 0 9;die 9 0 9 0 9 0 9 0 9 0 9 0;");
+            Audit x = Halls.loaded(Halls.HALL + "die 0 9;die 9 0 9 0 9 0 9 0 9 0 9 0;");
             Check.is("the least number of faces", 2, () -> x.faces(0));
             Check.is("the greatest number of faces", 12, () -> x.faces(1));
             Check.is("face 1", 0, () -> x.weightOf(0, 1));
@@ -55,6 +55,13 @@ final class HallTerms {
             Check.badArgument("face 3 of 2", x, () -> x.weightOf(0, 3));
             Check.badArgument("the weight 10", x, () -> x.setWeight(0, 1, 10));
             Check.badArgument("the weight -1", x, () -> x.setWeight(0, 1, -1));
+            String six = " die 0 1 2 3 4 5 6 7 8 9 8 7 die 1 2 3 4 5 6 7 8 9 8 7 6 die 2 3 4 5 6 7 8 9 8 7 6 5"
+                + " die 3 4 5 6 7 8 9 8 7 6 5 4 die 4 5 6 7 8 9 8 7 6 5 4 3 die 5 6 7 8 9 8 7 6 5 4 3 2";
+            Audit y = Halls.loaded("hall 1 1 1" + six.replace(" die", ";die") + ";");
+            Check.same("six dice of twelve faces", "1 1 1" + six, Halls.state(y));
+            y.setWeight(0, 1, 9);
+            y.setWeight(5, 12, 9);
+            Check.same("the first face of all and the last", "1 1 1" + six.replace("die 0", "die 9").replace("3 2", "3 9"), Halls.state(y));
             wrong(Halls.HALL + "die 1;", 1, 16);
             wrong(Halls.HALL + "die 9 0 9 0 9 0 9 0 9 0 9 0 9;", 5, 39);
             wrong(Halls.HALL + "die 10 1;", 2, 15);
@@ -63,7 +70,7 @@ final class HallTerms {
             Check.is("the first of two", 1, () -> Halls.loaded(Halls.HALL + "die 1 0;").dieCount());
             Check.is("the last of twelve", 1, () -> Halls.loaded(Halls.HALL + "die 0 0 0 0 0 0 0 0 0 0 0 1;").dieCount());
             wrong(Halls.HALL + "die 0 0;", 6, 18);
-            DiceAudit x = Halls.loaded(Halls.HALL + "die 1 0;");
+            Audit x = Halls.loaded(Halls.HALL + "die 1 0;");
             Check.badState("the last weight", x, () -> x.setWeight(0, 1, 0));
         });
     }
@@ -74,7 +81,7 @@ final class HallTerms {
             // 873 is the first seed that wraps around; 65536 is -1, and 75 * -1 + 74 is -1 again.
             int[][] steps = {{0, 74}, {1, 149}, {872, 65474}, {873, 12}, {874, 87}, {65535, 65461}, {65536, 65536}, {toZero, 0}};
             for (int[] step : steps) {
-                DiceAudit x = Halls.loaded("hall " + step[0] + " 1 0;die 0 1;player a;");
+                Audit x = Halls.loaded("hall " + step[0] + " 1 0;die 0 1;player a;");
                 x.throwDie(0, 0, 1);
                 Check.is("throwDie from " + step[0], step[1], x::seed);
                 Check.is("throw from " + step[0], step[1],
@@ -84,7 +91,7 @@ final class HallTerms {
                 x.absolve();
                 Check.is("absolve from " + step[0], step[1], x::seed);
             }
-            DiceAudit y = Halls.loaded("hall 0 1 0;die 1 1;player a;throw a 0 3;");
+            Audit y = Halls.loaded("hall 0 1 0;die 1 1;player a;throw a 0 3;");
             Check.is("three throws from 0", ((74 * 75 + 74) * 75 + 74) % 65537, y::seed);
         });
     }
@@ -118,7 +125,7 @@ final class HallTerms {
         });
         Doc.says("A fair throw works in the same way, but as if all faces had the weight 1.", () -> {
             for (int seed : new int[] {0, 1, 2, 3, 873, toZero, 65535, 65536}) {
-                DiceAudit x = Halls.loaded("hall 1 1 0;die 9 0 0;player a;throw a 0 3;audit;");
+                Audit x = Halls.loaded("hall 1 1 0;die 9 0 0;player a;throw a 0 3;audit;");
                 x.setSeed(seed);
                 int first = Halls.next(seed);
                 int second = Halls.next(first);
@@ -130,7 +137,7 @@ final class HallTerms {
             }
         });
         Doc.says("A die is balanced if all its weights are equal.", () -> {
-            DiceAudit x = Halls.loaded(Halls.HALL + "die 9 9;die 1 1 1 1 1 1 1 1 1 1 1 1;die 2 1 1;die 1 1 2;die 1 2 1;die 0 1;");
+            Audit x = Halls.loaded(Halls.HALL + "die 9 9;die 1 1 1 1 1 1 1 1 1 1 1 1;die 2 1 1;die 1 1 2;die 1 2 1;die 0 1;");
             boolean[] due = {true, true, false, false, false, false};
             for (int i = 0; i < due.length; i++) {
                 int die = i;
@@ -144,7 +151,7 @@ final class HallTerms {
     }
 
     private static void showsFrom(int seed, String weights, int face, String what) {
-        DiceAudit x = Halls.loaded("hall " + seed + " 1 0;die " + weights + ";player a;");
+        Audit x = Halls.loaded("hall " + seed + " 1 0;die " + weights + ";player a;");
         Check.is(what + ", nextFace", face, () -> x.nextFace(0));
         Check.is(what + ", throwDie", face, () -> x.throwDie(0, 0, 1));
         Check.is(what + ", throw", face, () -> Halls.loaded("hall " + seed + " 1 0;die " + weights + ";player a;throw a 0 1;").faceAt(0));
@@ -153,7 +160,7 @@ final class HallTerms {
     private static void players() {
         Doc.terms(2);
         Doc.says("There are at most 6 players, numbered from 0.", () -> {
-            DiceAudit x = Halls.loaded(Halls.HALL + Halls.SIX_PLAYERS);
+            Audit x = Halls.loaded(Halls.HALL + Halls.SIX_PLAYERS);
             Check.is("six", 6, x::playerCount);
             for (int i = 0; i < 6; i++) {
                 int player = i;
@@ -162,14 +169,14 @@ final class HallTerms {
             wrong(Halls.HALL + Halls.SIX_PLAYERS + "player g;", 5, 65);
         });
         Doc.says("A player has a name of 1 to 4 letters", () -> {
-            DiceAudit x = Halls.loaded(Halls.HALL + "player z;player abcd;");
+            Audit x = Halls.loaded(Halls.HALL + "player z;player abcd;");
             Check.same("one letter", "z", Halls.name(x, 0));
             Check.same("four letters", "abcd", Halls.name(x, 1));
             wrong(Halls.HALL + "player abcde;", 2, 18);
             wrong(Halls.HALL + "player ;", 1, 18);
         });
         Doc.says("all names are different.", () -> {
-            DiceAudit x = Halls.loaded(Halls.HALL + "player ab;player a;player abc;player b;player ba;player abcd;");
+            Audit x = Halls.loaded(Halls.HALL + "player ab;player a;player abc;player b;player ba;player abcd;");
             Check.same("one begins with another", "1 1 1 ab a abc b ba abcd", Halls.state(x));
             wrong(Halls.HALL + "player a;player ab;player a;", 3, 37);
             wrong(Halls.HALL + "player abcd;player abcd;", 3, 30);
@@ -178,11 +185,11 @@ final class HallTerms {
 
     private static void record() {
         Doc.says("The record is the list of all throws, with at most 300 throws, in the order in which they were made.", () -> {
-            DiceAudit x = Halls.loaded(Halls.STRICT + "die 0 1;die 1 0;player a;player b;throw b 0 1;throw a 1 2;");
+            Audit x = Halls.loaded(Halls.STRICT + "die 0 1;die 1 0;player a;player b;throw b 0 1;throw a 1 2;");
             x.throwDie(0, 0, 1);
             x.throwDie(1, 1, 1);
             Check.same("the order", " 10:2 01:1 01:1 00:2 11:1", Halls.record(x));
-            DiceAudit y = Halls.manyThrows("die 0 1;");
+            Audit y = Halls.manyThrows("die 0 1;");
             Check.is("300", 300, y::throwCount);
             Check.badState("301 by throwDie", y, () -> y.throwDie(0, 0, 1));
             String text = Halls.STRICT + "die 0 1;player a;" + "throw a 0 50;".repeat(6);
@@ -192,7 +199,7 @@ final class HallTerms {
             Check.is("a penance in a full record", 300, y::throwCount);
         });
         Doc.says("A throw in the record has a player, a die and a face, and it is marked if it was a fair throw.", () -> {
-            DiceAudit x = Halls.loaded(Halls.STRICT + "die 0 1;die 0 0 1;player a;player b;throw b 1 1;throw a 0 1;audit;absolve;");
+            Audit x = Halls.loaded(Halls.STRICT + "die 0 1;die 0 0 1;player a;player b;throw b 1 1;throw a 0 1;audit;absolve;");
             int face = Halls.next(Halls.next(Halls.next(1))) % 3 + 1;
             Check.same("a fair throw behind another", " 00:2 11:" + face + "*", Halls.record(x));
         });
@@ -200,7 +207,7 @@ final class HallTerms {
 
     private static void sums() {
         Doc.says("The frequency of a face is the number of throws in the record with a player, a die and this face.", () -> {
-            DiceAudit x = new DiceAudit();
+            Audit x = new Audit();
             int[] due = {0, 0, 0, 2, 1, 3};
             for (int i = 0; i < due.length; i++) {
                 int face = i + 1;
@@ -212,7 +219,7 @@ final class HallTerms {
             Check.is("fair throws count, others are removed", 2, () -> x.frequency(1, 1, 4));
         });
         Doc.says("The total of a player is the sum of the faces of the player's throws in the record.", () -> {
-            DiceAudit x = new DiceAudit();
+            Audit x = new Audit();
             Check.is("over two dice", 6 + 6 + 6 + 5 + 4 + 4 + 4 + 2 + 4, () -> x.total(0));
             x.absolve();
             Check.is("after a penance", 20, () -> x.total(1));
@@ -220,7 +227,7 @@ final class HallTerms {
         });
     }
 
-    private static void ranks(String what, DiceAudit x, int... order) {
+    private static void ranks(String what, Audit x, int... order) {
         for (int i = 0; i < order.length; i++) {
             int rank = i;
             Check.is(what + ", player " + order[i], rank, () -> x.rankOf(order[rank]));
@@ -231,7 +238,7 @@ final class HallTerms {
     private static void ranks() {
         Doc.says("The players are ranked by descending total, and with equal totals by their names in dictionary order"
             + " (a name comes before a longer name that begins with it)", () -> {
-            ranks("the first state", new DiceAudit(), 0, 1, 2);
+            ranks("the first state", new Audit(), 0, 1, 2);
             ranks("by total", Halls.loaded(Halls.HALL + "die 0 0 1;player a;player b;player c;throw b 0 3;throw c 0 9;throw a 0 5;"), 2, 0, 1);
             ranks("one more", Halls.loaded(Halls.HALL + "die 1 0;player a;player b;throw a 0 3;throw b 0 4;"), 1, 0);
             ranks("the greatest total", Halls.loaded(Halls.HALL + "die 0 0 0 0 0 0 0 0 0 0 0 1;player a;player b;"
@@ -244,7 +251,7 @@ final class HallTerms {
                 + "throw zz 0 2;throw z 1 3;throw a 1 1;"), 1, 0, 2);
         });
         Doc.says("the rank is the position in this order, from 0.", () -> {
-            DiceAudit x = Halls.loaded(Halls.HALL + "player f;player e;player d;player c;player b;player a;");
+            Audit x = Halls.loaded(Halls.HALL + "player f;player e;player d;player c;player b;player a;");
             ranks("the order of the names", x, 5, 4, 3, 2, 1, 0);
             Check.noElement("there is no rank -1", x, () -> x.playerWithRank(-1));
             Check.noElement("there is no rank 6", x, () -> x.playerWithRank(6));
@@ -254,21 +261,21 @@ final class HallTerms {
     private static void runs() {
         Doc.says("A run of a player is a number of throws of the player with the same face, one directly after the other among all throws"
             + " of this player, whatever the dice.", () -> {
-            DiceAudit x = Halls.loaded(Halls.HALL + "die 0 1;die 0 1 0;die 1 0;player a;player b;player c;"
+            Audit x = Halls.loaded(Halls.HALL + "die 0 1;die 0 1 0;die 1 0;player a;player b;player c;"
                 + "throw a 0 2;throw b 2 1;throw a 1 3;throw b 2 1;throw a 2 4;throw a 0 1;throw c 0 1;");
             Check.is("over two dice and other players", 5, () -> x.longestRun(0));
             Check.is("over other players", 2, () -> x.longestRun(1));
             Check.is("one throw", 1, () -> x.longestRun(2));
-            DiceAudit y = Halls.loaded(Halls.HALL + "die 0 1;die 1 0;player a;throw a 0 2;throw a 1 1;throw a 0 2;");
+            Audit y = Halls.loaded(Halls.HALL + "die 0 1;die 1 0;player a;throw a 0 2;throw a 1 1;throw a 0 2;");
             Check.is("not over another face", 2, () -> y.longestRun(0));
-            DiceAudit z = Halls.loaded(Halls.HALL + "die 0 1;die 1 0;player a;throw a 0 1;throw a 1 1;throw a 0 1;");
+            Audit z = Halls.loaded(Halls.HALL + "die 0 1;die 1 0;player a;throw a 0 1;throw a 1 1;throw a 0 1;");
             Check.is("every face another one", 1, () -> z.longestRun(0));
         });
     }
 
     /** Two faces that have been shown so many times. */
-    private static DiceAudit twoFaces(int ones, int twos) {
-        DiceAudit x = Halls.loaded(Halls.STRICT + "die 1 0;player a;throw a 0 " + ones + ";");
+    private static Audit twoFaces(int ones, int twos) {
+        Audit x = Halls.loaded(Halls.STRICT + "die 1 0;player a;throw a 0 " + ones + ";");
         x.setWeight(0, 2, 1);
         x.setWeight(0, 1, 0);
         x.throwDie(0, 0, twos);
@@ -287,13 +294,13 @@ final class HallTerms {
             Check.is("9 and 3: just 3", 3, () -> twoFaces(9, 3).score(0, 0));
             Check.is("10 and 4: 36 by 14", 2, () -> twoFaces(10, 4).score(0, 0));
             Check.is("18 and 7: 121 by 25", 4, () -> twoFaces(18, 7).score(0, 0));
-            Check.is("6 faces", 8, () -> new DiceAudit().score(0, 0));
+            Check.is("6 faces", 8, () -> new Audit().score(0, 0));
             Check.is("the greatest score", 3300, () -> Halls.manyThrows("die 0 0 0 0 0 0 0 0 0 0 0 1;").score(0, 0));
             Check.is("the greatest score of the first face", 3300, () -> Halls.manyThrows("die 1 0 0 0 0 0 0 0 0 0 0 0;").score(0, 0));
         });
         Doc.says("it is 0 if n is 0.", () -> {
             Check.is("no throws", 0, () -> Halls.loaded(Halls.HALL + "die 0 1;player a;").score(0, 0));
-            DiceAudit x = Halls.loaded(Halls.HALL + "die 0 1;die 0 1;player a;player b;throw a 0 5;");
+            Audit x = Halls.loaded(Halls.HALL + "die 0 1;die 0 1;player a;player b;throw a 0 5;");
             Check.is("another die's throws", 0, () -> x.score(0, 1));
             Check.is("another player's throws", 0, () -> x.score(1, 0));
             Check.is("no throws to come", 0, () -> x.scoreAfter(1, 1, 0));
@@ -304,7 +311,7 @@ final class HallTerms {
     private static void suspicion() {
         Doc.says("A pair is suspicious if n is at least the minimum (1 to 99) of the hall and the score is greater than the threshold"
             + " (0 to 999) of the hall.", () -> {
-            DiceAudit x = Halls.loaded("hall 1 4 3;die 0 1;player a;throw a 0 4;");
+            Audit x = Halls.loaded("hall 1 4 3;die 0 1;player a;throw a 0 4;");
             suspicious("n is the minimum, the score is just greater", x, true);
             x.setLimits(5, 3);
             suspicious("n is one less than the minimum", x, false);
@@ -329,7 +336,7 @@ final class HallTerms {
         });
     }
 
-    private static void suspicious(String what, DiceAudit x, boolean due) {
+    private static void suspicious(String what, Audit x, boolean due) {
         int count = due ? 1 : 0;
         Check.is(what, count, () -> x.isSuspicious(0, 0) ? 1 : 0);
         Check.is(what + ", the number", count, x::suspiciousPairs);

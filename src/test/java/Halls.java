@@ -16,18 +16,18 @@ final class Halls {
     private Halls() {
     }
 
-    static DiceAudit loaded(String text) {
-        DiceAudit hall = new DiceAudit();
+    static Audit loaded(String text) {
+        Audit hall = new Audit();
         load(hall, text);
         return hall;
     }
 
-    static DiceAudit empty() {
+    static Audit empty() {
         return loaded(STRICT);
     }
 
     /** Six dice, six players, 300 throws and 36 offences: there is no room for more of anything. */
-    static DiceAudit full() {
+    static Audit full() {
         StringBuilder text = new StringBuilder(STRICT + SIX_DICE + SIX_PLAYERS);
         for (int pair = 0; pair < 36; pair++) {
             text.append("throw ").append((char) ('a' + pair / 6)).append(pair % 6).append(" 8;");
@@ -36,35 +36,35 @@ final class Halls {
     }
 
     /** Has one of each, after it has had as many as there can be. */
-    static DiceAudit shrunk() {
-        DiceAudit hall = full();
+    static Audit shrunk() {
+        Audit hall = full();
         load(hall, STRICT + "die 0 1;player z;throw z 0 1;audit;");
         return hall;
     }
 
-    static DiceAudit[] all() {
-        return new DiceAudit[] {new DiceAudit(), empty(), full(), shrunk(),
+    static Audit[] all() {
+        return new Audit[] {new Audit(), empty(), full(), shrunk(),
             loaded(STRICT + "die 0 1;"), loaded(STRICT + "player a;")};
     }
 
     /** Three hundred throws by a, with one die. */
-    static DiceAudit manyThrows(String die) {
+    static Audit manyThrows(String die) {
         return loaded(STRICT + die + "player a;" + "throw a 0 50;".repeat(6));
     }
 
-    static int load(DiceAudit hall, String text) {
+    static int load(Audit hall, String text) {
         put(hall, text);
         return hall.load();
     }
 
     /** Loads a text that has an error. */
-    static void failLoad(DiceAudit hall, String text) {
+    static void failLoad(Audit hall, String text) {
         put(hall, text);
         Check.isThrown("load of " + text, IllegalArgumentException.class, hall::load);
     }
 
     /** Puts the text, one byte a character, into an input buffer that holds nothing. */
-    static void put(DiceAudit hall, String text) {
+    static void put(Audit hall, String text) {
         String whole = text + " ".repeat((20 - text.length() % 20) % 20);
         for (int i = 0; i < whole.length(); i += 20) {
             hall.appendInput(word(whole, i), word(whole, i + 4), word(whole, i + 8), word(whole, i + 12), word(whole, i + 16));
@@ -94,7 +94,7 @@ final class Halls {
         return DiceAudit.NONE;
     }
 
-    static String output(DiceAudit hall) {
+    static String output(Audit hall) {
         StringBuilder text = new StringBuilder();
         try {
             for (int i = 0; i < 1000; i++) {
@@ -106,7 +106,7 @@ final class Halls {
         return "endless";
     }
 
-    static String name(DiceAudit hall, int player) {
+    static String name(Audit hall, int player) {
         StringBuilder name = new StringBuilder();
         try {
             for (int i = 0; i < 1000; i++) {
@@ -118,7 +118,7 @@ final class Halls {
         return "endless";
     }
 
-    static String record(DiceAudit hall) {
+    static String record(Audit hall) {
         StringBuilder text = new StringBuilder();
         for (int i = 0; i < hall.throwCount(); i++) {
             text.append(' ').append(hall.playerAt(i)).append(hall.dieAt(i));
@@ -127,7 +127,7 @@ final class Halls {
         return text.toString();
     }
 
-    static String queue(DiceAudit hall) {
+    static String queue(Audit hall) {
         StringBuilder text = new StringBuilder();
         for (int rank = 0; rank < hall.offenceCount(); rank++) {
             text.append(" offence ").append(hall.offencePlayer(rank)).append(hall.offenceDie(rank));
@@ -137,7 +137,7 @@ final class Halls {
     }
 
     /** The whole state: all other answers about it follow from these. */
-    static String state(DiceAudit hall) {
+    static String state(Audit hall) {
         StringBuilder text = new StringBuilder();
         text.append(hall.seed()).append(' ').append(hall.minimum()).append(' ').append(hall.threshold());
         for (int die = 0; die < hall.dieCount(); die++) {
@@ -153,8 +153,64 @@ final class Halls {
     }
 
     /** The state, the remembered calls, the error and the output: all but the input buffer and the slots. */
-    static String allThatIsSeen(DiceAudit hall) {
+    static String allThatIsSeen(Audit hall) {
         return state(hall) + ", undo " + hall.undoDepth() + ", error " + hall.errorCode() + " at " + hall.errorPosition()
             + ", output " + output(hall);
+    }
+
+    /** What can be seen, and what other calls would bring to light. The hall itself is left alone. */
+    static String everything(Audit hall) {
+        return allThatIsSeen(hall.again()) + ", slots" + restored(hall.again(), 0) + restored(hall.again(), 1)
+            + ", remembered" + remembered(hall.again()) + ", input" + input(hall.again());
+    }
+
+    private static String restored(Audit hall, int slot) {
+        try {
+            hall.restore(slot);
+        } catch (IllegalStateException empty) {
+            return " empty";
+        }
+        return " (" + state(hall) + ")";
+    }
+
+    private static String remembered(Audit hall) {
+        StringBuilder text = new StringBuilder();
+        for (int depth = hall.undoDepth(); depth > 0; depth--) {
+            hall.undo();
+            text.append(" (").append(state(hall)).append(')');
+        }
+        return text.toString();
+    }
+
+    /** The player that the buffer names, its length, and what it says. */
+    private static String input(Audit hall) {
+        StringBuilder text = new StringBuilder(" ").append(hall.findPlayer()).append(" length ").append(inputLength(hall.again()));
+        try {
+            hall.load();
+        } catch (IllegalArgumentException wrong) {
+            return text.append(" error ").append(hall.errorCode()).append(" at ").append(hall.errorPosition()).toString();
+        }
+        return text.append(" (").append(state(hall)).append(')').toString();
+    }
+
+    private static int inputLength(Audit hall) {
+        try {
+            return hall.appendInput(0, 0, 0, 0, 0) - 20;
+        } catch (IllegalStateException noRoom) {
+            int length = 600;
+            while (length > 580 && !isAtLeast(hall, length)) {
+                length--;
+            }
+            return length;
+        }
+    }
+
+    private static boolean isAtLeast(Audit hall, int length) {
+        try {
+            hall.truncateInput(length);
+            return true;
+        } catch (IllegalArgumentException tooLong) {
+            return false;
+        }
     }
 }

@@ -20,7 +20,7 @@ final class InputPromises {
         Doc.promise(1);
         Doc.says("Creates the hall with the state that section 6 describes, an empty input buffer, no error, an empty output"
             + " and empty slots.", () -> {
-            DiceAudit x = new DiceAudit();
+            Audit x = new Audit();
             Check.same("the state", Halls.FIRST, Halls.state(x));
             Check.is("no error", 0, x::errorCode);
             Check.is("no error position", DiceAudit.NONE, x::errorPosition);
@@ -33,13 +33,13 @@ final class InputPromises {
         });
         Doc.says("Creates the hall with the state that section 6 describes, an empty input buffer, no error, an empty output"
             + " and empty slots.", () -> {
-            DiceAudit used = new DiceAudit();
+            Audit used = new Audit();
             used.save(0);
             used.setSeed(1);
             used.writeFaces(0);
             Halls.failLoad(used, WRONG);
             Halls.put(used, TEXT);
-            DiceAudit x = new DiceAudit();
+            Audit x = new Audit();
             Check.same("another object's calls", Halls.allThatIsSeen(x), Halls.FIRST + ", undo 0, error 0 at -1, output ");
             Check.badState("another object's slot", x, () -> x.restore(0));
             Check.is("another object's buffer", 20, () -> x.appendInput(0, 0, 0, 0, 0));
@@ -49,7 +49,7 @@ final class InputPromises {
     private static void appendInput() {
         Doc.promise(2);
         Doc.says("Appends 20 bytes to the input buffer: the four bytes of each argument, the most significant byte first.", () -> {
-            DiceAudit x = new DiceAudit();
+            Audit x = new Audit();
             x.appendInput(0x68616c6c, 0x20372038, 0x20393b70, 0x6c617965, 0x7220613b);
             Check.is("hall 7 8 9;player a; can be loaded", 0, x::load);
             Check.same("what it says", "7 8 9 a", Halls.state(x));
@@ -59,7 +59,7 @@ final class InputPromises {
             Check.same("what both say", "7 8 9 b c", Halls.state(x));
         });
         Doc.says("Returns the new length of the buffer.", () -> {
-            DiceAudit x = new DiceAudit();
+            Audit x = new Audit();
             for (int length = 20; length <= 600; length += 20) {
                 Check.is("length", length, () -> x.appendInput(-1, -1, -1, -1, -1));
             }
@@ -68,7 +68,7 @@ final class InputPromises {
         });
         Doc.says("Throws `IllegalStateException` if the new length would be greater than 600", () -> {
             for (int length : new int[] {581, 582, 599, 600}) {
-                DiceAudit x = new DiceAudit();
+                Audit x = new Audit();
                 Halls.put(x, TEXT + " ".repeat(length - TEXT.length()));
                 Check.badState("20 more than " + length, x, () -> x.appendInput(0, 0, 0, 0, 0));
                 Check.badArgument("the length stays", x, () -> x.truncateInput(length + 1));
@@ -77,7 +77,7 @@ final class InputPromises {
                 Check.same("what they say", "7 8 9", Halls.state(x));
                 Check.is("there is room again", 20, () -> x.appendInput(0, 0, 0, 0, 0));
             }
-            DiceAudit y = new DiceAudit();
+            Audit y = new Audit();
             Halls.put(y, " ".repeat(580));
             Check.is("just 600", 600, () -> y.appendInput(0, 0, 0, 0, 0));
         });
@@ -94,7 +94,7 @@ final class InputPromises {
                         StringBuilder text = new StringBuilder(" ".repeat(20));
                         int position = 4 * argument + place;
                         text.setCharAt(position, sign);
-                        DiceAudit x = new DiceAudit();
+                        Audit x = new Audit();
                         Halls.failLoad(x, text.toString());
                         Check.is("byte " + (place + 1) + " with the value " + (int) sign, position, x::errorPosition);
                     }
@@ -106,7 +106,7 @@ final class InputPromises {
     private static void truncateInput() {
         Doc.promise(3);
         Doc.says("Truncates the input buffer.", () -> {
-            DiceAudit x = new DiceAudit();
+            Audit x = new Audit();
             Halls.put(x, TEXT + "player b;player");
             x.truncateInput(TEXT.length() + 9);
             Check.is("what is left can be loaded", 0, x::load);
@@ -118,7 +118,7 @@ final class InputPromises {
             Check.is("what was cut does not come back", DiceAudit.NONE, x::findPlayer);
         });
         Doc.says("`length`: the new length, 0 to the current length", () -> {
-            DiceAudit x = new DiceAudit();
+            Audit x = new Audit();
             Check.is("empty to empty", 0, () -> x.truncateInput(0));
             Halls.put(x, " ".repeat(600));
             Check.is("full to full", 600, () -> x.truncateInput(600));
@@ -128,21 +128,21 @@ final class InputPromises {
             Check.is("one byte to none", 0, () -> x.truncateInput(0));
         });
         Doc.says("Returns the new length.", () -> {
-            DiceAudit x = new DiceAudit();
+            Audit x = new Audit();
             x.appendInput(1, 2, 3, 4, 5);
             Check.is("7 of 20", 7, () -> x.truncateInput(7));
             Check.is("append goes on there", 27, () -> x.appendInput(1, 2, 3, 4, 5));
         });
         Doc.says("Throws `IllegalArgumentException` if the length is out of range", () -> {
             for (int length : new int[] {0, 1, 20, 600}) {
-                DiceAudit x = new DiceAudit();
+                Audit x = new Audit();
                 Halls.put(x, " ".repeat(length));
                 for (int no : new int[] {length + 1, length + 20, 601, 1000, -1, Integer.MIN_VALUE, Integer.MAX_VALUE}) {
                     Check.badArgument(no + " of " + length, x, () -> x.truncateInput(no));
                 }
                 Check.is("the length stays", length, () -> x.truncateInput(length));
             }
-            DiceAudit y = new DiceAudit();
+            Audit y = new Audit();
             Halls.put(y, TEXT);
             y.truncateInput(6);
             Check.badArgument("the length before the cut", y, () -> y.truncateInput(7));
@@ -154,12 +154,12 @@ final class InputPromises {
     private static void load() {
         Doc.promise(4);
         Doc.says("Parses the input buffer and replaces the state by the result.", () -> {
-            DiceAudit x = Halls.full();
+            Audit x = Halls.full();
             Halls.load(x, "hall 3 4 5;");
             Check.same("nothing of the state before is left", "3 4 5", Halls.state(x));
             Halls.load(x, "hall 4 2 1;die 0 1;player zoe;throw zoe 0 3;");
             Check.same("a smaller hall than an earlier one", "12190 2 1 die 0 1 zoe 00:2 00:2 00:2", Halls.state(x));
-            DiceAudit y = Halls.loaded(Halls.STRICT + "die 1 2 3 4 5 6 7 8 9 0 1 2;player abcd;throw abcd 0 50;");
+            Audit y = Halls.loaded(Halls.STRICT + "die 1 2 3 4 5 6 7 8 9 0 1 2;player abcd;throw abcd 0 50;");
             Halls.load(y, Halls.STRICT + "die 3 3;player a;");
             Check.same("smaller dice and shorter names", "1 1 0 die 3 3 a", Halls.state(y));
             Check.yes("no weight of the die before", () -> y.isBalanced(0));
@@ -167,7 +167,7 @@ final class InputPromises {
             Check.is("no throws before", 0, () -> y.facesSeen(0, 0));
         });
         Doc.says("The input buffer is empty afterwards, also if the text has an error.", () -> {
-            DiceAudit x = new DiceAudit();
+            Audit x = new Audit();
             Halls.load(x, TEXT);
             Check.badArgument("no byte after a load", x, () -> x.truncateInput(1));
             Check.is("an append after a load", 20, () -> x.appendInput(0, 0, 0, 0, 0));
@@ -181,7 +181,7 @@ final class InputPromises {
         });
         Doc.says("If the text has an error, the state does not change, and the error code and the error position are stored.", () -> {
             for (String text : new String[] {WRONG, "", "hall", TEXT + "?", TEXT + "die 1 1;player b;throw b 0 50;audit;absolve;"}) {
-                DiceAudit x = new DiceAudit();
+                Audit x = new Audit();
                 x.setSeed(5);
                 String before = Halls.state(x);
                 Halls.failLoad(x, text);
@@ -192,7 +192,7 @@ final class InputPromises {
             }
         });
         Doc.says("Returns the number of throws in the record.", () -> {
-            DiceAudit x = new DiceAudit();
+            Audit x = new Audit();
             Check.is("none", 0, () -> Halls.load(x, TEXT));
             String before = Halls.STRICT + "die 0 0 1;player a;";
             Check.is("one", 1, () -> Halls.load(x, before + "throw a 0 1;"));
@@ -200,7 +200,7 @@ final class InputPromises {
             Check.is("300", 300, () -> Halls.load(x, before + "throw a 0 50;".repeat(6)));
         });
         Doc.says("Throws `IllegalArgumentException` if the text has an error", () -> {
-            DiceAudit x = new DiceAudit();
+            Audit x = new Audit();
             Check.isThrown("an empty text", IllegalArgumentException.class, x::load);
             Halls.put(x, WRONG);
             Check.isThrown("an error at the end", IllegalArgumentException.class, x::load);
@@ -213,7 +213,7 @@ final class InputPromises {
     private static void error() {
         Doc.promise(5);
         Doc.says("Returns the error code of the latest call of load", () -> {
-            DiceAudit x = new DiceAudit();
+            Audit x = new Audit();
             Halls.failLoad(x, "hall 1 0 1;");
             Check.is("a number out of range", 2, x::errorCode);
             Halls.failLoad(x, "hall 1");
@@ -223,7 +223,7 @@ final class InputPromises {
             Check.is("undo leaves it", 1, x::errorCode);
         });
         Doc.says("0 if it had no error or if load was not called.", () -> {
-            DiceAudit x = new DiceAudit();
+            Audit x = new Audit();
             Check.is("load was not called", 0, x::errorCode);
             Halls.failLoad(x, "hall 1");
             Halls.load(x, TEXT);
@@ -233,7 +233,7 @@ final class InputPromises {
         });
         Doc.promise(6);
         Doc.says("Returns the error position of the latest call of load", () -> {
-            DiceAudit x = new DiceAudit();
+            Audit x = new Audit();
             Halls.failLoad(x, "hall 1 0 1;");
             Check.is("a number out of range", 7, x::errorPosition);
             Halls.failLoad(x, "hall 1");
@@ -245,7 +245,7 @@ final class InputPromises {
             Check.is("undo leaves it", 0, x::errorPosition);
         });
         Doc.says("NONE if it had no error or if load was not called.", () -> {
-            DiceAudit x = new DiceAudit();
+            Audit x = new Audit();
             Check.is("load was not called", -1, x::errorPosition);
             Halls.failLoad(x, "hall 1");
             Halls.load(x, TEXT);
@@ -260,7 +260,7 @@ final class InputPromises {
         int[] found = {0, 1, -1, 2, -1, -1, -1, -1, -1, -1, -1, -1, -1, -1};
         Doc.promise(28);
         Doc.says("Finds the player whose name is the whole input buffer.", () -> {
-            DiceAudit x = Halls.loaded(Halls.HALL + "player a;player ab;player abcd;");
+            Audit x = Halls.loaded(Halls.HALL + "player a;player ab;player abcd;");
             for (int i = 0; i < texts.length; i++) {
                 Halls.put(x, texts[i]);
                 Check.is(texts[i], found[i], x::findPlayer);
@@ -272,7 +272,7 @@ final class InputPromises {
             Check.is("what is left of it", 2, x::findPlayer);
         });
         Doc.says("The input buffer does not change.", () -> {
-            DiceAudit x = Halls.loaded(Halls.HALL + "player a;player ab;player abcd;");
+            Audit x = Halls.loaded(Halls.HALL + "player a;player ab;player abcd;");
             for (int i = 0; i < texts.length; i++) {
                 int length = texts[i].length();
                 Halls.put(x, texts[i]);
@@ -288,7 +288,7 @@ final class InputPromises {
             Check.same("a text is still there", "2 3 4", Halls.state(x));
         });
         Doc.says("Returns the player", () -> {
-            DiceAudit x = Halls.loaded(Halls.HALL + Halls.SIX_PLAYERS);
+            Audit x = Halls.loaded(Halls.HALL + Halls.SIX_PLAYERS);
             for (int i = 0; i < 6; i++) {
                 int player = i;
                 Halls.put(x, String.valueOf((char) ('a' + player)));
@@ -297,15 +297,15 @@ final class InputPromises {
             }
         });
         Doc.says("NONE if there is none.", () -> {
-            DiceAudit x = new DiceAudit();
+            Audit x = new Audit();
             Check.is("an empty buffer", -1, x::findPlayer);
             Halls.put(x, "an");
             Check.is("a name cut short", -1, x::findPlayer);
-            DiceAudit y = Halls.shrunk();
+            Audit y = Halls.shrunk();
             Check.is("an empty buffer again", -1, y::findPlayer);
             Halls.put(y, "b");
             Check.is("a player of an earlier text", -1, y::findPlayer);
-            DiceAudit z = Halls.empty();
+            Audit z = Halls.empty();
             Check.is("no players and an empty buffer", -1, z::findPlayer);
         });
     }

@@ -7,30 +7,30 @@ final class Missing {
     private static final int[] NUMBERS = {Integer.MIN_VALUE, -36, -6, -1, 0, 1, 2, 3, 6, 7, 12, 19, 36, 300, 301, Integer.MAX_VALUE};
 
     interface NumberCall {
-        double answer(DiceAudit hall, int number);
+        double answer(Audit hall, int number);
     }
 
     interface PairCall {
-        double answer(DiceAudit hall, int first, int second);
+        double answer(Audit hall, int first, int second);
     }
 
     private Missing() {
     }
 
     static void die(NumberCall call) {
-        numbers("die", DiceAudit::dieCount, call);
+        numbers("die", Audit::dieCount, call);
     }
 
     static void player(NumberCall call) {
-        numbers("player", DiceAudit::playerCount, call);
+        numbers("player", Audit::playerCount, call);
     }
 
     static void throwIndex(NumberCall call) {
-        numbers("throw", DiceAudit::throwCount, call);
+        numbers("throw", Audit::throwCount, call);
     }
 
     static void offence(NumberCall call) {
-        numbers("offence", DiceAudit::offenceCount, call);
+        numbers("offence", Audit::offenceCount, call);
     }
 
     private static List<Integer> outside(int count) {
@@ -43,8 +43,8 @@ final class Missing {
         return outside;
     }
 
-    private static void numbers(String what, ToIntFunction<DiceAudit> counter, NumberCall call) {
-        for (DiceAudit hall : Halls.all()) {
+    private static void numbers(String what, ToIntFunction<Audit> counter, NumberCall call) {
+        for (Audit hall : Halls.all()) {
             int count = counter.applyAsInt(hall);
             for (int number : outside(count)) {
                 Check.noIndex(what + " " + number + " of " + count, hall, () -> call.answer(hall, number));
@@ -58,7 +58,7 @@ final class Missing {
 
     /** The player is wrong, then the die, then both. */
     static void pair(PairCall call) {
-        for (DiceAudit hall : Halls.all()) {
+        for (Audit hall : Halls.all()) {
             int players = hall.playerCount();
             int dice = hall.dieCount();
             for (int player : outside(players)) {
@@ -82,7 +82,7 @@ final class Missing {
 
     /** There are a die of two faces, the smallest one, and one of twelve, the greatest, between two others. */
     static void face(PairCall call) {
-        DiceAudit hall = Halls.loaded(Halls.STRICT + "die 1 2;die 1 1 1 1 1 1 1 1 1 1 1 1;die 3 3 3;player a;");
+        Audit hall = Halls.loaded(Halls.STRICT + "die 1 2;die 1 1 1 1 1 1 1 1 1 1 1 1;die 3 3 3;player a;");
         for (int die = 0; die < 3; die++) {
             int own = die;
             int faces = new int[] {2, 12, 3}[die];
@@ -96,7 +96,7 @@ final class Missing {
 
     /** The first state has all that such a call needs beside its number. */
     static void outOfRange(int least, int greatest, NumberCall call) {
-        DiceAudit hall = new DiceAudit();
+        Audit hall = new Audit();
         for (int number : new int[] {Integer.MIN_VALUE, -1, least - 1, greatest + 1, greatest + 2, Integer.MAX_VALUE}) {
             if (number < least || number > greatest) {
                 Check.badArgument("number " + number, hall, () -> call.answer(hall, number));

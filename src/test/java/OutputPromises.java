@@ -11,7 +11,7 @@ final class OutputPromises {
         outputByte();
     }
 
-    private static void records(String what, String due, DiceAudit x) {
+    private static void records(String what, String due, Audit x) {
         x.writeRecords();
         Check.same(what, due, Halls.output(x));
     }
@@ -20,7 +20,7 @@ final class OutputPromises {
         Doc.promise(59);
         Doc.says("Writes the records into the output: for each player with throws in the record, in dictionary order of the names and"
             + " separated by spaces, the name, the byte : and the total in decimal, and the byte ! if the player has an offence in the queue.", () -> {
-            DiceAudit x = new DiceAudit();
+            Audit x = new Audit();
             records("the first state", "ann:41! bob:31! cid:2", x);
             x.forgive(0);
             records("forgiven", "ann:41 bob:31! cid:2", x);
@@ -36,7 +36,7 @@ final class OutputPromises {
             records("six players", "a:120! b:96! c:96! d:96! e:96! f:96!", Halls.full());
         });
         Doc.says("The previous output is discarded.", () -> {
-            DiceAudit x = new DiceAudit();
+            Audit x = new Audit();
             x.writeRecords();
             x.writeRecords();
             Check.same("the same again", "ann:41! bob:31! cid:2", Halls.output(x));
@@ -48,7 +48,7 @@ final class OutputPromises {
             records("after faces", "ann:41! bob:31! cid:2", x);
         });
         Doc.says("Returns the length of the output.", () -> {
-            Check.is("the first state", 21, () -> new DiceAudit().writeRecords());
+            Check.is("the first state", 21, () -> new Audit().writeRecords());
             Check.is("no throws", 0, () -> Halls.loaded(Halls.HALL + "player a;").writeRecords());
             Check.is("no players", 0, () -> Halls.empty().writeRecords());
             Check.is("six players", 36, () -> Halls.full().writeRecords());
@@ -58,18 +58,18 @@ final class OutputPromises {
     private static void writeFaces() {
         Doc.promise(60);
         Doc.says("Writes the faces of all throws of a player into the output, from the oldest one on and separated by commas.", () -> {
-            DiceAudit x = new DiceAudit();
+            Audit x = new Audit();
             String[] due = {"6,6,6,5,4,4,4,2,4", "4,4,4,3,4,4,4,4", "1,1"};
             for (int player = 0; player < due.length; player++) {
                 x.writeFaces(player);
                 Check.same("player " + player, due[player], Halls.output(x));
             }
-            DiceAudit y = Halls.manyThrows(ALWAYS_12 + "player b;");
+            Audit y = Halls.manyThrows(ALWAYS_12 + "player b;");
             y.writeFaces(1);
             Check.same("three hundred times 12", "12,".repeat(299) + "12", Halls.output(y));
             y.writeFaces(0);
             Check.same("no throws", "", Halls.output(y));
-            DiceAudit z = Halls.loaded(Halls.HALL + "die 0 0 0 0 0 0 0 0 1;die 0 0 0 0 0 0 0 0 0 1;player a;throw a 1 1;throw a 0 1;");
+            Audit z = Halls.loaded(Halls.HALL + "die 0 0 0 0 0 0 0 0 1;die 0 0 0 0 0 0 0 0 0 1;player a;throw a 1 1;throw a 0 1;");
             z.writeFaces(0);
             Check.same("one digit behind two", "10,9", Halls.output(z));
             x.throwDie(2, 0, 1);
@@ -77,7 +77,7 @@ final class OutputPromises {
             Check.same("the latest throw comes last", "1,1,6", Halls.output(x));
         });
         Doc.says("The previous output is discarded.", () -> {
-            DiceAudit x = new DiceAudit();
+            Audit x = new Audit();
             x.writeRecords();
             x.writeFaces(2);
             Check.same("a shorter output", "1,1", Halls.output(x));
@@ -88,7 +88,7 @@ final class OutputPromises {
             Check.same("an empty output", "", Halls.output(x));
         });
         Doc.says("Returns the length of the output.", () -> {
-            DiceAudit x = new DiceAudit();
+            Audit x = new Audit();
             Check.is("nine faces", 17, () -> x.writeFaces(0));
             Check.is("two faces", 3, () -> x.writeFaces(2));
             Check.is("the longest output", 899, () -> Halls.manyThrows(ALWAYS_12).writeFaces(0));
@@ -96,8 +96,8 @@ final class OutputPromises {
             Check.is("one face", 1, () -> Halls.shrunk().writeFaces(0));
         });
         Doc.says("Throws `IndexOutOfBoundsException` if the player does not exist", () -> {
-            Missing.player(DiceAudit::writeFaces);
-            DiceAudit x = new DiceAudit();
+            Missing.player(Audit::writeFaces);
+            Audit x = new Audit();
             x.writeFaces(2);
             Check.noIndex("a refused call leaves the output", x, () -> x.writeFaces(3));
         });
@@ -106,26 +106,26 @@ final class OutputPromises {
     private static void outputByte() {
         Doc.promise(61);
         Doc.says("`position`: a position in the output, from 0", () -> {
-            DiceAudit x = new DiceAudit();
+            Audit x = new Audit();
             x.writeFaces(2);
             Check.is("the first byte", '1', () -> x.outputByte(0));
             Check.is("the second byte", ',', () -> x.outputByte(1));
             Check.is("the last byte", '1', () -> x.outputByte(2));
         });
         Doc.says("Returns the byte at this position.", () -> {
-            DiceAudit x = new DiceAudit();
+            Audit x = new Audit();
             x.writeRecords();
             String due = "ann:41! bob:31! cid:2";
             for (int i = 0; i < due.length(); i++) {
                 int position = i;
                 Check.is("position " + i, due.charAt(i), () -> x.outputByte(position));
             }
-            DiceAudit y = Halls.manyThrows(ALWAYS_12);
+            Audit y = Halls.manyThrows(ALWAYS_12);
             y.writeFaces(0);
             Check.is("the last byte of the longest output", '2', () -> y.outputByte(898));
         });
         Doc.says("Throws `NoSuchElementException` if the output has no such position", () -> {
-            DiceAudit x = new DiceAudit();
+            Audit x = new Audit();
             for (int no : new int[] {0, 1, -1, Integer.MIN_VALUE, Integer.MAX_VALUE}) {
                 Check.noElement("an empty output, " + no, x, () -> x.outputByte(no));
             }
@@ -135,7 +135,7 @@ final class OutputPromises {
             }
             x.writeFaces(2);
             Check.noElement("a byte of the output before", x, () -> x.outputByte(3));
-            DiceAudit y = Halls.manyThrows(ALWAYS_12 + "player b;");
+            Audit y = Halls.manyThrows(ALWAYS_12 + "player b;");
             y.writeFaces(1);
             for (int no : new int[] {899, 900, 901, -1}) {
                 Check.noElement("899 bytes, " + no, y, () -> y.outputByte(no));

@@ -21,7 +21,7 @@ final class PairPromises {
     }
 
     private static void firstState(Missing.PairCall call, int... due) {
-        DiceAudit x = new DiceAudit();
+        Audit x = new Audit();
         for (int i = 0; i < due.length; i++) {
             int player = i / 2;
             int die = i % 2;
@@ -30,19 +30,19 @@ final class PairPromises {
     }
 
     /** The only throw shows the last face of the last pair that there can be. */
-    private static DiceAudit lastPair() {
+    private static Audit lastPair() {
         return Halls.loaded(Halls.STRICT + "die 0 1;".repeat(5) + ALWAYS_12 + Halls.SIX_PLAYERS + "throw f 5 1;");
     }
 
     /** The last face of one pair stands beside the first face of the next one: 0 0 and 0 1, and 0 5 and 1 0. */
-    static DiceAudit neighbours() {
+    static Audit neighbours() {
         return Halls.loaded(Halls.STRICT + ALWAYS_12 + "die 1 0;".repeat(4) + ALWAYS_12 + Halls.SIX_PLAYERS
             + "throw a 0 3;throw a 1 2;throw a 5 4;throw f 5 1;");
     }
 
     /** A die of three faces that has shown its faces so many times. */
-    private static DiceAudit shown(int ones, int twos, int threes) {
-        DiceAudit x = Halls.loaded(Halls.STRICT + "die 1 0 0;player a;" + times(ones));
+    private static Audit shown(int ones, int twos, int threes) {
+        Audit x = Halls.loaded(Halls.STRICT + "die 1 0 0;player a;" + times(ones));
         x.setWeight(0, 2, 1);
         x.setWeight(0, 1, 0);
         throwSome(x, twos);
@@ -56,7 +56,7 @@ final class PairPromises {
         return count == 0 ? "" : "throw a 0 " + count + ";";
     }
 
-    private static void throwSome(DiceAudit x, int count) {
+    private static void throwSome(Audit x, int count) {
         if (count > 0) {
             x.throwDie(0, 0, count);
         }
@@ -65,20 +65,21 @@ final class PairPromises {
     private static void throwsOfPair() {
         Doc.promise(29);
         Doc.says("Returns the number of throws of the pair in the record.", () -> {
-            firstState(DiceAudit::throwsOfPair, 6, 3, 0, 8, 2, 0);
+            firstState(Audit::throwsOfPair, 6, 3, 0, 8, 2, 0);
             Check.is("300", 300, () -> Halls.manyThrows("die 0 1;").throwsOfPair(0, 0));
             Check.is("the last pair", 1, () -> lastPair().throwsOfPair(5, 5));
             Check.is("the pair before it", 0, () -> lastPair().throwsOfPair(5, 4));
             Check.is("a pair between two others", 2, () -> neighbours().throwsOfPair(0, 1));
+            Check.is("a pair beside another's face 1", 3, () -> neighbours().throwsOfPair(0, 0));
             Check.is("no throws beside the last die of another player", 0, () -> neighbours().throwsOfPair(1, 0));
         });
-        Doc.says(NO_PAIR, () -> Missing.pair(DiceAudit::throwsOfPair));
+        Doc.says(NO_PAIR, () -> Missing.pair(Audit::throwsOfPair));
     }
 
     private static void frequency() {
         Doc.promise(30);
         Doc.says("`face`: a face, from 1", () -> {
-            DiceAudit x = shown(3, 0, 2);
+            Audit x = shown(3, 0, 2);
             Check.is("the first face", 3, () -> x.frequency(0, 0, 1));
             Check.is("the last face", 2, () -> x.frequency(0, 0, 3));
             Check.is("the face 12 of the last pair", 1, () -> lastPair().frequency(5, 5, 12));
@@ -100,7 +101,7 @@ final class PairPromises {
     private static void commonFace() {
         Doc.promise(31);
         Doc.says("Returns the face with the greatest frequency", () -> {
-            firstState(DiceAudit::commonFace, 6, 4, -1, 4, 1, -1);
+            firstState(Audit::commonFace, 6, 4, -1, 4, 1, -1);
             Check.is("the first face", 1, () -> shown(3, 2, 2).commonFace(0, 0));
             Check.is("the face between", 2, () -> shown(2, 3, 2).commonFace(0, 0));
             Check.is("the last face", 3, () -> shown(2, 2, 3).commonFace(0, 0));
@@ -113,58 +114,60 @@ final class PairPromises {
             Check.is("the second and the last", 2, () -> shown(0, 2, 2).commonFace(0, 0));
         });
         Doc.says("NONE if the pair has no throws.", () -> {
-            DiceAudit x = Halls.loaded(TWO_DICE + "throw a 0 2;throw b 1 2;");
+            Audit x = Halls.loaded(TWO_DICE + "throw a 0 2;throw b 1 2;");
             Check.is("another die's throws", -1, () -> x.commonFace(0, 1));
             Check.is("another player's throws", -1, () -> x.commonFace(1, 0));
             x.throwDie(0, 1, 1);
             x.undo();
             Check.is("no throws any more", -1, () -> x.commonFace(0, 1));
         });
-        Doc.says(NO_PAIR, () -> Missing.pair(DiceAudit::commonFace));
+        Doc.says(NO_PAIR, () -> Missing.pair(Audit::commonFace));
     }
 
     private static void facesSeen() {
         Doc.promise(32);
         Doc.says("Returns the number of faces of the die with a frequency greater than 0.", () -> {
-            firstState(DiceAudit::facesSeen, 3, 2, 0, 2, 1, 0);
+            firstState(Audit::facesSeen, 3, 2, 0, 2, 1, 0);
             Check.is("none", 0, () -> shown(0, 0, 0).facesSeen(0, 0));
             Check.is("one that was thrown once", 1, () -> shown(0, 0, 1).facesSeen(0, 0));
             Check.is("all, the first and the last once", 3, () -> shown(1, 2, 1).facesSeen(0, 0));
             Check.is("the face 12", 1, () -> lastPair().facesSeen(5, 5));
             Check.is("a pair beside another's face 12", 1, () -> neighbours().facesSeen(0, 1));
+            Check.is("the face 12 beside another pair's face 1", 1, () -> neighbours().facesSeen(0, 0));
             Check.is("no throws beside another player's face 12", 0, () -> neighbours().facesSeen(1, 0));
         });
-        Doc.says(NO_PAIR, () -> Missing.pair(DiceAudit::facesSeen));
+        Doc.says(NO_PAIR, () -> Missing.pair(Audit::facesSeen));
     }
 
     private static void latestThrow() {
         Doc.promise(33);
         Doc.says("Returns the index of the latest throw of the pair in the record", () -> {
-            firstState(DiceAudit::latestThrow, 5, 16, -1, 13, 18, -1);
-            DiceAudit x = Halls.loaded(TWO_DICE + "throw a 0 1;throw b 1 1;throw a 1 1;");
+            firstState(Audit::latestThrow, 5, 16, -1, 13, 18, -1);
+            Audit x = Halls.loaded(TWO_DICE + "throw a 0 1;throw b 1 1;throw a 1 1;");
             Check.is("the first throw of the record", 0, () -> x.latestThrow(0, 0));
             Check.is("the last throw of the record", 2, () -> x.latestThrow(0, 1));
             Check.is("the throw 300", 299, () -> Halls.manyThrows("die 0 1;").latestThrow(0, 0));
         });
         Doc.says("NONE if there is none.", () -> {
-            DiceAudit x = Halls.loaded(TWO_DICE + "throw a 0 2;throw b 1 2;");
+            Audit x = Halls.loaded(TWO_DICE + "throw a 0 2;throw b 1 2;");
             Check.is("another die's throws", -1, () -> x.latestThrow(0, 1));
             Check.is("another player's throws", -1, () -> x.latestThrow(1, 0));
             Halls.load(x, Halls.STRICT + "die 1 1;player a;");
             Check.is("the throws of an earlier text", -1, () -> x.latestThrow(0, 0));
         });
-        Doc.says(NO_PAIR, () -> Missing.pair(DiceAudit::latestThrow));
+        Doc.says(NO_PAIR, () -> Missing.pair(Audit::latestThrow));
     }
 
     private static void score() {
         Doc.promise(34);
         Doc.says("Returns the score of the pair.", () -> {
-            firstState(DiceAudit::score, 8, 3, 0, 17, 10, 0);
+            firstState(Audit::score, 8, 3, 0, 17, 10, 0);
             Check.is("of the last pair", 11, () -> lastPair().score(5, 5));
             Check.is("of a pair beside another's face 12", 2, () -> neighbours().score(0, 1));
+            Check.is("of a pair beside another's face 1", 33, () -> neighbours().score(0, 0));
             Check.is("no throws beside another player's face 12", 0, () -> neighbours().score(1, 0));
         });
-        Doc.says(NO_PAIR, () -> Missing.pair(DiceAudit::score));
+        Doc.says(NO_PAIR, () -> Missing.pair(Audit::score));
     }
 
     private static void isSuspicious() {
@@ -180,14 +183,14 @@ final class PairPromises {
     private static void suspiciousPairs() {
         Doc.promise(36);
         Doc.says("Returns the number of suspicious pairs.", () -> {
-            Check.is("of the first state", 2, () -> new DiceAudit().suspiciousPairs());
+            Check.is("of the first state", 2, () -> new Audit().suspiciousPairs());
             Check.is("no pairs", 0, () -> Halls.empty().suspiciousPairs());
             Check.is("no throws", 0, () -> Halls.loaded(TWO_DICE).suspiciousPairs());
             Check.is("the first pair alone", 1, () -> Halls.loaded(TWO_DICE + "throw a 0 1;").suspiciousPairs());
             Check.is("the last pair alone", 1, () -> lastPair().suspiciousPairs());
             Check.is("all 36 pairs", 36, () -> Halls.full().suspiciousPairs());
             Check.is("one after 36", 1, () -> Halls.shrunk().suspiciousPairs());
-            DiceAudit x = new DiceAudit();
+            Audit x = new Audit();
             x.forgive(0);
             Check.is("the queue is no matter", 2, x::suspiciousPairs);
         });
@@ -196,18 +199,18 @@ final class PairPromises {
     private static void worstPair() {
         Doc.promise(37);
         Doc.says("Returns 10 times the player plus the die of the pair with the greatest score", () -> {
-            Check.is("of the first state", 11, () -> new DiceAudit().worstPair());
+            Check.is("of the first state", 11, () -> new Audit().worstPair());
             Check.is("the greatest score", 11, () -> Halls.loaded(TWO_DICE + "throw a 0 2;throw b 1 3;").worstPair());
             Check.is("the score 1", 10, () -> Halls.loaded(TWO_DICE + "throw b 0 1;").worstPair());
             Check.is("the last pair", 55, () -> lastPair().worstPair());
-            DiceAudit x = Halls.full();
+            Audit x = Halls.full();
             x.setLimits(99, 999);
             Check.is("the limits are no matter", 0, x::worstPair);
         });
         Doc.says("the smallest player, then the smallest die if several have it", () -> {
             Check.is("the smallest player", 1, () -> Halls.loaded(TWO_DICE + "throw b 0 2;throw a 1 2;").worstPair());
             Check.is("the smallest die", 10, () -> Halls.loaded(TWO_DICE + "throw b 1 2;throw b 0 2;").worstPair());
-            DiceAudit x = Halls.loaded(TWO_DICE + "throw b 0 1;");
+            Audit x = Halls.loaded(TWO_DICE + "throw b 0 1;");
             x.setWeight(0, 1, 1);
             x.setWeight(0, 2, 0);
             x.throwDie(1, 0, 1);
@@ -216,7 +219,7 @@ final class PairPromises {
         Doc.says("NONE if there are no throws.", () -> {
             Check.is("dice and players", -1, () -> Halls.loaded(TWO_DICE).worstPair());
             Check.is("nothing at all", -1, () -> Halls.empty().worstPair());
-            DiceAudit x = Halls.loaded(TWO_DICE);
+            Audit x = Halls.loaded(TWO_DICE);
             x.throwDie(0, 0, 1);
             Check.is("one throw", 0, x::worstPair);
             x.undo();

@@ -17,7 +17,7 @@ final class QueueTerms {
 
     private static void order() {
         Doc.says("The queue of offences is ordered by descending score, then by ascending player, then by ascending die", () -> {
-            DiceAudit x = Halls.loaded(TEXT + "throw b 1 4;throw b 0 4;throw a 1 4;throw a 0 2;throw c 2 3;throw b 2 2;audit;");
+            Audit x = Halls.loaded(TEXT + "throw b 1 4;throw b 0 4;throw a 1 4;throw a 0 2;throw c 2 3;throw b 2 2;audit;");
             Check.same("one audit", " offence 22=6 offence 01=4 offence 10=4 offence 11=4 offence 12=4 offence 00=2", Halls.queue(x));
             x.throwDie(2, 0, 4);
             x.throwDie(0, 2, 20);
@@ -25,7 +25,7 @@ final class QueueTerms {
             x.audit();
             Check.same("two audits", " offence 02=40 offence 22=6 offence 01=4 offence 10=4 offence 11=4 offence 12=4 offence 20=4"
                 + " offence 00=2 offence 21=1", Halls.queue(x));
-            DiceAudit y = Halls.loaded(TEXT + "throw b 1 4;audit;throw b 0 4;audit;throw a 2 2;audit;throw c 0 5;audit;throw c 1 3;audit;");
+            Audit y = Halls.loaded(TEXT + "throw b 1 4;audit;throw b 0 4;audit;throw a 2 2;audit;throw c 0 5;audit;throw c 1 3;audit;");
             Check.same("an audit for each", " offence 20=5 offence 02=4 offence 10=4 offence 11=4 offence 21=3", Halls.queue(y));
             StringBuilder all = new StringBuilder();
             for (int pair = 0; pair < 36; pair++) {
@@ -34,7 +34,7 @@ final class QueueTerms {
             Check.same("36 with the same score", all.toString(), Halls.queue(Halls.full()));
         });
         Doc.says("the rank of an offence is its position in this order, from 0.", () -> {
-            DiceAudit x = Halls.loaded(TEXT + "throw a 0 1;throw b 0 3;throw c 0 2;audit;");
+            Audit x = Halls.loaded(TEXT + "throw a 0 1;throw b 0 3;throw c 0 2;audit;");
             int[] players = {1, 2, 0};
             for (int i = 0; i < players.length; i++) {
                 int rank = i;
@@ -47,7 +47,7 @@ final class QueueTerms {
 
     private static void audits() {
         Doc.says("An audit adds an offence, with the present score, for each suspicious pair that has no offence in the queue.", () -> {
-            DiceAudit x = Halls.loaded("hall 1 3 3;die 0 1;die 0 1;player a;player b;throw a 0 4;throw b 0 3;throw b 1 4;");
+            Audit x = Halls.loaded("hall 1 3 3;die 0 1;die 0 1;player a;player b;throw a 0 4;throw b 0 3;throw b 1 4;");
             Check.is("two of three pairs with throws", 2, x::audit);
             Check.same("not the one that is not suspicious", " offence 00=4 offence 11=4", Halls.queue(x));
             Check.is("nothing new", 0, x::audit);
@@ -60,7 +60,7 @@ final class QueueTerms {
             Check.same("with the score that it has now", " offence 00=14 offence 10=4 offence 11=4", Halls.queue(x));
             Check.is("no pairs", 0, () -> Halls.empty().audit());
             Check.is("a full queue", 0, () -> Halls.full().audit());
-            DiceAudit y = new DiceAudit();
+            Audit y = new Audit();
             y.setLimits(99, 999);
             Check.is("no pair is suspicious", 0, y::audit);
             Check.is("what is in the queue stays", 2, y::offenceCount);
@@ -69,14 +69,14 @@ final class QueueTerms {
 
     private static void penances() {
         Doc.says("To absolve is to take the first offence out of the queue.", () -> {
-            DiceAudit x = Halls.loaded(TEXT + "throw a 0 1;throw b 0 3;throw c 0 2;audit;");
+            Audit x = Halls.loaded(TEXT + "throw a 0 1;throw b 0 3;throw c 0 2;audit;");
             x.absolve();
             Check.same("the worst is gone", " offence 20=2 offence 00=1", Halls.queue(x));
             x.absolve();
             Check.same("the next is gone", " offence 00=1", Halls.queue(x));
             x.absolve();
             Check.same("the last is gone", "", Halls.queue(x));
-            DiceAudit y = Halls.full();
+            Audit y = Halls.full();
             y.absolve();
             Check.is("one of 36", 35, y::offenceCount);
             Check.is("the second is the first", 1, () -> y.offenceDie(0));
@@ -85,7 +85,7 @@ final class QueueTerms {
     }
 
     private static void isMadeAgain(String what, String text, int due) {
-        DiceAudit x = Halls.loaded(TEXT + text);
+        Audit x = Halls.loaded(TEXT + text);
         int count = x.throwCount();
         Check.is(what + ", before", due, x::penanceNow);
         x.absolve();
@@ -111,7 +111,7 @@ final class QueueTerms {
     private static void removal() {
         Doc.says("The latest k throws of the pair are removed from the record", () -> {
             // The pair's first and last throws differ in their faces.
-            DiceAudit x = Halls.loaded(TEXT + "throw a 0 2;audit;");
+            Audit x = Halls.loaded(TEXT + "throw a 0 2;audit;");
             x.setWeight(0, 1, 1);
             x.setWeight(0, 2, 0);
             x.throwDie(0, 0, 3);
@@ -120,25 +120,25 @@ final class QueueTerms {
             x.absolve();
             Check.same("the latest two of five", " 00:2 00:2 00:1 11:2 00:" + (first % 2 + 1) + "* 00:" + (Halls.next(first) % 2 + 1) + "*",
                 Halls.record(x));
-            DiceAudit y = new DiceAudit();
+            Audit y = new Audit();
             y.absolve();
             Check.same("all of them", " 00:6 00:6 00:6 00:5 00:4 00:4 01:4 01:2 01:4 20:1 20:1"
                 + " 11:2* 11:3* 11:2* 11:4* 11:4* 11:3* 11:1* 11:1*", Halls.record(y));
-            DiceAudit z = Halls.loaded(TEXT + "throw a 0 1;audit;absolve;audit;");
+            Audit z = Halls.loaded(TEXT + "throw a 0 1;audit;absolve;audit;");
             int next = Halls.next(z.seed());
             z.absolve();
             Check.same("a fair throw too", " 00:" + (next % 2 + 1) + "*", Halls.record(z));
         });
         Doc.says("the other throws stay in their order.", () -> {
-            DiceAudit x = Halls.loaded(TEXT + "throw b 0 1;throw a 0 1;throw c 1 1;throw a 1 1;throw a 0 1;throw b 1 1;audit;");
+            Audit x = Halls.loaded(TEXT + "throw b 0 1;throw a 0 1;throw c 1 1;throw a 1 1;throw a 0 1;throw b 1 1;audit;");
             x.absolve();
             Check.same("both throws of the pair go", " 10:2 21:2 01:2 11:2", Halls.record(x).substring(0, 20));
             Check.is("the number", 6, x::throwCount);
-            DiceAudit y = Halls.loaded(TEXT + "throw a 0 2;audit;throw b 0 1;throw a 0 1;throw c 0 1;throw a 0 1;throw b 1 1;");
+            Audit y = Halls.loaded(TEXT + "throw a 0 2;audit;throw b 0 1;throw a 0 1;throw c 0 1;throw a 0 1;throw b 1 1;");
             y.absolve();
             Check.same("two of four throws of the pair stay", " 00:2 00:2 10:2 20:2 11:2", Halls.record(y).substring(0, 25));
             Check.is("the number of all", 7, y::throwCount);
-            DiceAudit z = Halls.loaded(TEXT + "throw b 0 1;throw a 0 1;throw c 0 1;throw a 0 1;audit;throw b 1 3;throw a 0 2;");
+            Audit z = Halls.loaded(TEXT + "throw b 0 1;throw a 0 1;throw c 0 1;throw a 0 1;audit;throw b 1 3;throw a 0 2;");
             z.absolve();
             Check.same("others before those that stay", " 10:2 00:2 20:2 00:2 11:2 11:2 11:2", Halls.record(z).substring(0, 35));
         });
@@ -146,12 +146,12 @@ final class QueueTerms {
 
     private static void fairThrows() {
         Doc.says("Then the player makes k fair throws with the die, which are added to the record.", () -> {
-            DiceAudit x = Halls.loaded(TEXT + "throw b 2 1;throw a 0 1;audit;");
+            Audit x = Halls.loaded(TEXT + "throw b 2 1;throw a 0 1;audit;");
             int seed = Halls.next(x.seed());
             x.absolve();
             Check.same("at the end", " 00:2 12:" + (seed % 3 + 1) + "*", Halls.record(x));
             Check.is("the seed", seed, x::seed);
-            DiceAudit y = Halls.manyThrows("die 0 0 1;");
+            Audit y = Halls.manyThrows("die 0 0 1;");
             int first = Halls.next(y.seed());
             y.audit();
             y.absolve();

@@ -20,13 +20,13 @@ final class StateTerms {
     }
 
     /** One call of each undoable method, which changes what its name says. */
-    private static Map<String, Consumer<DiceAudit>> changes() {
-        Map<String, Consumer<DiceAudit>> changes = new LinkedHashMap<>();
+    private static Map<String, Consumer<Audit>> changes() {
+        Map<String, Consumer<Audit>> changes = new LinkedHashMap<>();
         changes.put("load", x -> Halls.load(x, "hall 3 4 5;die 0 1;player zoe;throw zoe 0 2;"));
         changes.put("load of the least text", x -> Halls.load(x, "hall 0 1 0;"));
         changes.put("throwDie", x -> x.throwDie(2, 1, 50));
-        changes.put("audit", DiceAudit::audit);
-        changes.put("absolve", DiceAudit::absolve);
+        changes.put("audit", Audit::audit);
+        changes.put("absolve", Audit::absolve);
         changes.put("forgive", x -> x.forgive(0));
         changes.put("setWeight", x -> x.setWeight(1, 4, 9));
         changes.put("setSeed", x -> x.setSeed(65536));
@@ -36,8 +36,8 @@ final class StateTerms {
     }
 
     /** The first state with an audit to be held, another state in slot 1, and none in slot 0. */
-    private static DiceAudit prepared() {
-        DiceAudit x = new DiceAudit();
+    private static Audit prepared() {
+        Audit x = new Audit();
         Halls.load(x, "hall 9 9 9;player q;");
         x.save(1);
         x.undo();
@@ -50,7 +50,7 @@ final class StateTerms {
     private static void parts() {
         Doc.says("The state consists of the seed, the minimum, the threshold, the dice, the players, the record and the queue.", () -> {
             changes().forEach((name, change) -> {
-                DiceAudit x = prepared();
+                Audit x = prepared();
                 String before = Halls.state(x);
                 x.save(0);
                 change.accept(x);
@@ -64,7 +64,7 @@ final class StateTerms {
             });
         });
         Doc.says("Undo restores the state before the latest remembered call.", () -> {
-            DiceAudit x = prepared();
+            Audit x = prepared();
             String before = Halls.state(x);
             Check.is("one call is remembered before", 1, x::undoDepth);
             x.setSeed(1);
@@ -80,7 +80,7 @@ final class StateTerms {
                 x.undo();
             }
             Check.same("all of eight calls", before, Halls.state(x));
-            DiceAudit y = Halls.full();
+            Audit y = Halls.full();
             String full = Halls.state(y);
             Halls.load(y, "hall 1 1 1;");
             y.undo();
@@ -92,11 +92,11 @@ final class StateTerms {
         Doc.says("Undoable methods are load if the text has no error, and throwDie, audit, absolve, forgive, setWeight, setSeed, setLimits and"
             + " restore if they throw no exception.", () -> {
             changes().forEach((name, change) -> {
-                DiceAudit x = prepared();
+                Audit x = prepared();
                 change.accept(x);
                 Check.is(name, 2, x::undoDepth);
             });
-            DiceAudit same = Halls.full();
+            Audit same = Halls.full();
             same.audit();
             same.setSeed(same.seed());
             same.setLimits(1, 0);
@@ -104,7 +104,7 @@ final class StateTerms {
             same.forgive(0);
             same.forgive(0);
             Check.is("calls that change nothing are remembered too", 7, same::undoDepth);
-            DiceAudit x = Halls.full();
+            Audit x = Halls.full();
             String before = Halls.allThatIsSeen(x);
             Check.badState("throwDie", x, () -> x.throwDie(0, 0, 1));
             Check.noIndex("forgive", x, () -> x.forgive(6));
@@ -114,7 +114,7 @@ final class StateTerms {
             Check.badArgument("setLimits", x, () -> x.setLimits(0, 0));
             Check.badState("restore", x, () -> x.restore(0));
             Check.same("refused calls are not remembered", before, Halls.allThatIsSeen(x));
-            DiceAudit y = Halls.empty();
+            Audit y = Halls.empty();
             Check.badState("absolve", y, y::absolve);
             Halls.failLoad(y, "hall 1 1 1;x");
             Check.is("a load with an error is not remembered", 1, y::undoDepth);
@@ -131,7 +131,7 @@ final class StateTerms {
     private static void remembered() {
         Doc.says("The latest 8 undoable calls are remembered", () -> {
             for (int calls : new int[] {1, 7, 8, 9, 15, 16, 17, 24, 100}) {
-                DiceAudit x = new DiceAudit();
+                Audit x = new Audit();
                 for (int i = 1; i <= calls; i++) {
                     x.setSeed(i);
                 }
@@ -144,7 +144,7 @@ final class StateTerms {
                 }
                 Check.badState("undo of one more", x, x::undo);
             }
-            DiceAudit y = new DiceAudit();
+            Audit y = new Audit();
             for (int i = 1; i <= 8; i++) {
                 y.setSeed(i);
             }
@@ -164,7 +164,7 @@ final class StateTerms {
             Check.badState("no more", y, y::undo);
         });
         Doc.says("load does not discard them.", () -> {
-            DiceAudit x = new DiceAudit();
+            Audit x = new Audit();
             x.setSeed(3);
             Halls.load(x, "hall 5 1 1;");
             x.setSeed(6);
@@ -183,7 +183,7 @@ final class StateTerms {
 
     private static void notPartOfTheState() {
         Doc.says("The input buffer, the error, the output and the slots are not part of the state.", () -> {
-            DiceAudit x = new DiceAudit();
+            Audit x = new Audit();
             x.save(0);
             x.setSeed(7);
             x.save(1);
@@ -208,7 +208,7 @@ final class StateTerms {
 
     private static void refusedCalls() {
         Doc.says("A method that throws an exception changes nothing, unless its description says otherwise.", () -> {
-            DiceAudit x = prepared();
+            Audit x = prepared();
             x.save(0);
             x.writeRecords();
             Halls.put(x, "hall 3 4 5;");
@@ -233,7 +233,7 @@ final class StateTerms {
 
     private static void severalExceptions() {
         Doc.says("If several exceptions apply, the one that is listed first in the throws clause is thrown.", () -> {
-            DiceAudit x = Halls.full();
+            Audit x = Halls.full();
             Check.noIndex("nameByte", x, () -> x.nameByte(6, 9));
             Check.noIndex("weightOf", x, () -> x.weightOf(6, 0));
             Check.noIndex("frequency, no player", x, () -> x.frequency(6, 0, 0));
@@ -256,10 +256,10 @@ final class StateTerms {
     }
 
     /** Each method that asks a question, in a hall that has all that it may ask for. */
-    private static Map<String, Consumer<DiceAudit>> questionsOfAll() {
-        Map<String, Consumer<DiceAudit>> all = new LinkedHashMap<>();
-        all.put("errorCode", DiceAudit::errorCode);
-        all.put("errorPosition", DiceAudit::errorPosition);
+    private static Map<String, Consumer<Audit>> questionsOfAll() {
+        Map<String, Consumer<Audit>> all = new LinkedHashMap<>();
+        all.put("errorCode", Audit::errorCode);
+        all.put("errorPosition", Audit::errorPosition);
         all.put("faces", x -> x.faces(1));
         all.put("weightOf", x -> x.weightOf(1, 4));
         all.put("isBalanced", x -> x.isBalanced(1));
@@ -270,7 +270,7 @@ final class StateTerms {
         all.put("rankOf", x -> x.rankOf(2));
         all.put("playerWithRank", x -> x.playerWithRank(2));
         all.put("longestRun", x -> x.longestRun(2));
-        all.put("findPlayer", DiceAudit::findPlayer);
+        all.put("findPlayer", Audit::findPlayer);
         all.put("throwsOfPair", x -> x.throwsOfPair(2, 1));
         all.put("frequency", x -> x.frequency(2, 1, 4));
         all.put("commonFace", x -> x.commonFace(2, 1));
@@ -278,42 +278,32 @@ final class StateTerms {
         all.put("latestThrow", x -> x.latestThrow(2, 1));
         all.put("score", x -> x.score(2, 1));
         all.put("isSuspicious", x -> x.isSuspicious(2, 1));
-        all.put("suspiciousPairs", DiceAudit::suspiciousPairs);
-        all.put("worstPair", DiceAudit::worstPair);
+        all.put("suspiciousPairs", Audit::suspiciousPairs);
+        all.put("worstPair", Audit::worstPair);
         all.put("offencesOf", x -> x.offencesOf(2));
         all.put("nextFace", x -> x.nextFace(1));
         all.put("faceAfter", x -> x.faceAfter(1, 200));
         all.put("throwsUntil", x -> x.throwsUntil(1, 1));
         all.put("scoreAfter", x -> x.scoreAfter(2, 1, 50));
         all.put("throwsUntilSuspicious", x -> x.throwsUntilSuspicious(2, 1));
-        all.put("penanceNow", DiceAudit::penanceNow);
-        all.put("frequencyDifference", DiceAudit::frequencyDifference);
-        all.put("totalDifference", DiceAudit::totalDifference);
-        all.put("fairShare", DiceAudit::fairShare);
-        all.put("undoDepth", DiceAudit::undoDepth);
+        all.put("penanceNow", Audit::penanceNow);
+        all.put("frequencyDifference", Audit::frequencyDifference);
+        all.put("totalDifference", Audit::totalDifference);
+        all.put("fairShare", Audit::fairShare);
+        all.put("undoDepth", Audit::undoDepth);
         return all;
     }
 
     private static void questions() {
         Doc.says("Methods that ask a question change nothing.", () -> questionsOfAll().forEach((name, question) -> {
-            DiceAudit x = prepared();
+            Audit x = prepared();
             x.writeRecords();
             Halls.failLoad(x, "hall 1 1 1;?");
             Halls.put(x, "bob");
             x.save(0);
-            String before = Halls.allThatIsSeen(x);
+            String before = Halls.everything(x);
             question.accept(x);
-            Check.same(name, before, Halls.allThatIsSeen(x));
-            Check.is(name + ", the input buffer", 1, x::findPlayer);
-            x.restore(0);
-            Check.same(name + ", slot 0", before.replace("undo 1", "undo 2"), Halls.allThatIsSeen(x));
-            x.restore(1);
-            Check.same(name + ", slot 1", "9 9 9 q", Halls.state(x));
-            x.undo();
-            x.undo();
-            Check.same(name + ", undo", before, Halls.allThatIsSeen(x));
-            x.undo();
-            Check.same(name + ", undo of the first call", Halls.FIRST, Halls.state(x));
+            Check.same(name, before, Halls.everything(x));
         }));
     }
 
@@ -321,9 +311,9 @@ final class StateTerms {
         String text = "hall 1 6 3;die 1 1 1 1 1 1;die 0 1 1 4;player ann;player bob;player cid;throw ann 0 6;throw bob 1 8;throw ann 1 3;"
             + "audit;throw cid 0 2;";
         Doc.says("Before the first successful load the state is that of the text \"" + text + "\".", () -> {
-            Check.same("a new object", Halls.FIRST, Halls.state(new DiceAudit()));
+            Check.same("a new object", Halls.FIRST, Halls.state(new Audit()));
             Check.same("the text", Halls.FIRST, Halls.state(Halls.loaded(text)));
-            DiceAudit x = new DiceAudit();
+            Audit x = new Audit();
             Halls.failLoad(x, "hall 1 1 1;?");
             Check.same("after a load with an error", Halls.FIRST, Halls.state(x));
         });

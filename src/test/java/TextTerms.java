@@ -35,7 +35,7 @@ final class TextTerms {
     }
 
     private static void wrong(String text, int code, int position) {
-        DiceAudit x = new DiceAudit();
+        Audit x = new Audit();
         Halls.failLoad(x, text);
         Check.is(text + ", code", code, x::errorCode);
         Check.is(text + ", position", position, x::errorPosition);
@@ -48,7 +48,7 @@ final class TextTerms {
     }
 
     private static void right(String text, String state) {
-        DiceAudit x = new DiceAudit();
+        Audit x = new Audit();
         Check.is(text + " is loaded", 0, () -> 0 * Halls.load(x, text));
         Check.is(text + ", code", 0, x::errorCode);
         Check.is(text + ", position", -1, x::errorPosition);
@@ -63,7 +63,7 @@ final class TextTerms {
         Doc.says("The input buffer holds at most 600 bytes.", () -> {
             right(filled(HALL, 600), "1 1 1");
             right(filled(HALL, 600 - 11) + "player abc;", "1 1 1 abc");
-            DiceAudit x = new DiceAudit();
+            Audit x = new Audit();
             Halls.put(x, filled("", 600));
             Check.badState("620 bytes", x, () -> x.appendInput(0, 0, 0, 0, 0));
             x.truncateInput(581);
@@ -247,7 +247,7 @@ final class TextTerms {
             Check.is("one offence is left", 1, () -> Halls.loaded(SUSPECT + "audit;absolve;").offenceCount());
         });
         Doc.says("a penance", () -> {
-            DiceAudit due = Halls.loaded(SUSPECT + "audit;");
+            Audit due = Halls.loaded(SUSPECT + "audit;");
             due.absolve();
             right(SUSPECT + "audit;absolve;", Halls.state(due));
             due.absolve();

@@ -16,7 +16,7 @@ final class UndoPromises {
     private static void save() {
         Doc.promise(62);
         Doc.says("Stores a copy of the state in a slot.", () -> {
-            DiceAudit x = Halls.full();
+            Audit x = Halls.full();
             String full = Halls.state(x);
             x.save(1);
             x.setWeight(0, 1, 9);
@@ -27,14 +27,14 @@ final class UndoPromises {
             Halls.load(x, "hall 5 5 5;");
             x.restore(1);
             Check.same("all of the fullest state", full, Halls.state(x));
-            DiceAudit y = Halls.empty();
+            Audit y = Halls.empty();
             y.save(0);
             Halls.load(y, Halls.HALL + "die 1 1;player a;throw a 0 3;");
             y.restore(0);
             Check.same("all of an empty state", "1 1 0", Halls.state(y));
         });
         Doc.says("The previous content of the slot is discarded.", () -> {
-            DiceAudit x = new DiceAudit();
+            Audit x = new Audit();
             x.save(0);
             x.save(1);
             x.setSeed(5);
@@ -51,7 +51,7 @@ final class UndoPromises {
             Check.same("a smaller state over a greater one", "5 5 5", Halls.state(x));
         });
         Doc.says("`slot`: 0 or 1", () -> {
-            DiceAudit x = new DiceAudit();
+            Audit x = new Audit();
             x.setSeed(10);
             x.save(0);
             x.setSeed(11);
@@ -62,12 +62,12 @@ final class UndoPromises {
             Check.is("slot 1", 11, x::seed);
         });
         Doc.says("Returns the number of throws in the record.", () -> {
-            Check.is("19", 19, () -> new DiceAudit().save(0));
+            Check.is("19", 19, () -> new Audit().save(0));
             Check.is("none", 0, () -> Halls.empty().save(1));
             Check.is("300", 300, () -> Halls.full().save(0));
         });
         Doc.says(NO_SLOT, () -> {
-            DiceAudit x = new DiceAudit();
+            Audit x = new Audit();
             for (int no : NO_SLOTS) {
                 Check.noIndex("slot " + no, x, () -> x.save(no));
             }
@@ -79,7 +79,7 @@ final class UndoPromises {
     private static void restore() {
         Doc.promise(63);
         Doc.says("Replaces the state by the copy in a slot.", () -> {
-            DiceAudit x = new DiceAudit();
+            Audit x = new Audit();
             x.save(0);
             Halls.load(x, "hall 9 9 9;");
             x.restore(0);
@@ -92,7 +92,7 @@ final class UndoPromises {
             Check.same("a smaller state", "9 9 9", Halls.state(x));
         });
         Doc.says("The slot keeps its content.", () -> {
-            DiceAudit x = new DiceAudit();
+            Audit x = new Audit();
             x.save(1);
             for (int i = 0; i < 3; i++) {
                 x.throwDie(0, 0, 1);
@@ -109,7 +109,7 @@ final class UndoPromises {
             Check.same("undo leaves the slot", Halls.FIRST, Halls.state(x));
         });
         Doc.says("`slot`: 0 or 1", () -> {
-            DiceAudit x = new DiceAudit();
+            Audit x = new Audit();
             x.save(1);
             x.setSeed(7);
             x.save(0);
@@ -119,7 +119,7 @@ final class UndoPromises {
             Check.is("slot 0", 7, x::seed);
         });
         Doc.says("Returns the number of throws in the record afterwards.", () -> {
-            DiceAudit x = Halls.empty();
+            Audit x = Halls.empty();
             x.save(0);
             Halls.load(x, Halls.STRICT + "die 0 1;player a;" + "throw a 0 50;".repeat(6));
             x.save(1);
@@ -127,7 +127,7 @@ final class UndoPromises {
             Check.is("300 after none", 300, () -> x.restore(1));
         });
         Doc.says(NO_SLOT, () -> {
-            DiceAudit x = new DiceAudit();
+            Audit x = new Audit();
             for (int no : NO_SLOTS) {
                 Check.noIndex("empty slots, slot " + no, x, () -> x.restore(no));
             }
@@ -138,16 +138,16 @@ final class UndoPromises {
             }
         });
         Doc.says("Throws `IllegalStateException` if the slot is empty", () -> {
-            DiceAudit x = new DiceAudit();
+            Audit x = new Audit();
             Check.badState("slot 0", x, () -> x.restore(0));
             Check.badState("slot 1", x, () -> x.restore(1));
             x.save(1);
             Check.badState("slot 0 beside a full one", x, () -> x.restore(0));
             Check.is("slot 1 is full", 19, () -> x.restore(1));
-            DiceAudit y = new DiceAudit();
+            Audit y = new Audit();
             y.save(0);
             Check.badState("slot 1 beside a full one", y, () -> y.restore(1));
-            DiceAudit z = Halls.empty();
+            Audit z = Halls.empty();
             z.save(0);
             Check.is("a slot with a state of no throws is not empty", 0, () -> z.restore(0));
         });
@@ -156,7 +156,7 @@ final class UndoPromises {
     private static void undo() {
         Doc.promise(64);
         Doc.says("Undoes the latest remembered undoable call and removes it from the remembered calls.", () -> {
-            DiceAudit x = new DiceAudit();
+            Audit x = new Audit();
             x.setSeed(1);
             x.setSeed(2);
             x.undo();
@@ -168,7 +168,7 @@ final class UndoPromises {
             Check.same("the first state", Halls.FIRST, Halls.state(x));
         });
         Doc.says("Returns the number of remembered calls that are left.", () -> {
-            DiceAudit x = new DiceAudit();
+            Audit x = new Audit();
             for (int i = 1; i <= 20; i++) {
                 x.setSeed(i);
             }
@@ -178,7 +178,7 @@ final class UndoPromises {
             }
         });
         Doc.says("Throws `IllegalStateException` if no call is remembered", () -> {
-            DiceAudit x = new DiceAudit();
+            Audit x = new Audit();
             Check.badState("a new object", x, x::undo);
             x.setSeed(1);
             x.undo();
@@ -191,7 +191,7 @@ final class UndoPromises {
             }
             Check.badState("eight of nine calls, undone", x, x::undo);
             Check.is("the ninth call stays", 1, x::seed);
-            DiceAudit y = new DiceAudit();
+            Audit y = new Audit();
             y.save(0);
             y.writeRecords();
             Halls.failLoad(y, "");
@@ -202,7 +202,7 @@ final class UndoPromises {
     private static void undoDepth() {
         Doc.promise(65);
         Doc.says("Returns the number of remembered undoable calls, at most 8.", () -> {
-            DiceAudit x = new DiceAudit();
+            Audit x = new Audit();
             Check.is("none", 0, x::undoDepth);
             for (int i = 1; i <= 20; i++) {
                 int call = i;
