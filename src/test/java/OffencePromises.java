@@ -78,6 +78,11 @@ final class OffencePromises {
             Check.is("three", 3, () -> x.offencesOf(1));
             Check.is("none", 0, () -> x.offencesOf(2));
             Check.is("six", 6, () -> Halls.full().offencesOf(5));
+            Audit sixDice = PairPromises.neighbours();
+            sixDice.audit();
+            Check.is("one with the last die", 3, () -> sixDice.offencesOf(0));
+            Check.is("none of the player before", 0, () -> sixDice.offencesOf(1));
+            Check.is("the last player with the last die", 1, () -> sixDice.offencesOf(5));
             x.absolve();
             Check.is("one is absolved", 3, () -> x.offencesOf(0) + x.offencesOf(1));
         });
@@ -185,6 +190,12 @@ final class OffencePromises {
             Check.same("the last is gone", "", Halls.queue(x));
             x.undo();
             Check.same("undone", " offence 01=4", Halls.queue(x));
+            Audit sixDice = PairPromises.neighbours();
+            sixDice.audit();
+            sixDice.forgive(1);
+            Check.same("none of the player before", " offence 05=44 offence 00=33 offence 55=11 offence 01=2", Halls.queue(sixDice));
+            sixDice.forgive(0);
+            Check.same("the offence with the last die is gone", " offence 55=11", Halls.queue(sixDice));
             Audit y = Halls.full();
             String record = Halls.record(y);
             y.forgive(5);

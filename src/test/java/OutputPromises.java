@@ -75,6 +75,13 @@ final class OutputPromises {
             x.throwDie(2, 0, 1);
             x.writeFaces(2);
             Check.same("the latest throw comes last", "1,1,6", Halls.output(x));
+            Audit sixDice = PairPromises.neighbours();
+            sixDice.writeFaces(0);
+            Check.same("with the last die", "12,12,12,1,1,12,12,12,12", Halls.output(sixDice));
+            sixDice.writeFaces(1);
+            Check.same("none of the player before", "", Halls.output(sixDice));
+            sixDice.writeFaces(5);
+            Check.same("the last player with the last die", "12", Halls.output(sixDice));
         });
         Doc.says("The previous output is discarded.", () -> {
             Audit x = new Audit();

@@ -107,6 +107,8 @@ final class PairPromises {
             Check.is("the last face", 3, () -> shown(2, 2, 3).commonFace(0, 0));
             Check.is("one throw of the face 12", 12, () -> lastPair().commonFace(5, 5));
             Check.is("a pair beside another's face 12", 1, () -> neighbours().commonFace(0, 1));
+            Check.is("the face 12 beside another pair's face 1", 12,
+                () -> Halls.loaded(Halls.STRICT + ALWAYS_12 + "die 1 0;player a;throw a 0 1;throw a 1 2;").commonFace(0, 0));
         });
         Doc.says("the smallest number if several have it", () -> {
             Check.is("all of them", 1, () -> shown(2, 2, 2).commonFace(0, 0));

@@ -141,6 +141,21 @@ final class QueueTerms {
             Audit z = Halls.loaded(TEXT + "throw b 0 1;throw a 0 1;throw c 0 1;throw a 0 1;audit;throw b 1 3;throw a 0 2;");
             z.absolve();
             Check.same("others before those that stay", " 10:2 00:2 20:2 00:2 11:2 11:2 11:2", Halls.record(z).substring(0, 35));
+            Audit marked = Halls.loaded("hall 1 2 0;" + TEXT.substring(11) + "throw a 0 2;audit;absolve;throw b 0 1;throw a 1 1;throw c 2 3;");
+            marked.setLimits(3, 0);
+            marked.audit();
+            marked.absolve();
+            marked.throwDie(1, 2, 4);
+            marked.setLimits(3, 7);
+            marked.audit();
+            String before = Halls.record(marked);
+            int[] marks = {1, 1, 0, 0, 1, 1, 1, 0, 0, 0, 0};
+            for (int i = 0; i < marks.length; i++) {
+                int index = i;
+                Check.is("fair throws and others by turns, " + index, marks[index], () -> marked.isFairAt(index) ? 1 : 0);
+            }
+            marked.absolve();
+            Check.same("each with its mark", before.replace(" 12:3", ""), Halls.record(marked).substring(0, before.length() - 20));
         });
     }
 

@@ -209,6 +209,11 @@ final class RecordPromises {
             Check.is("all throws: 1 1", 2, () -> x.longestRun(2));
             Check.is("one throw", 1, () -> Halls.loaded(Halls.HALL + "die 1 1;player a;throw a 0 1;").longestRun(0));
             Check.is("300 throws", 300, () -> Halls.manyThrows("die 0 1;").longestRun(0));
+            Check.is("60 throws with six dice, and others between them", 60, () -> Halls.full().longestRun(0));
+            Audit y = PairPromises.neighbours();
+            Check.is("with the last die: 12 12 12 1 1 12 12 12 12", 4, () -> y.longestRun(0));
+            Check.is("none of the player before", 0, () -> y.longestRun(1));
+            Check.is("the last player with the last die", 1, () -> y.longestRun(5));
         });
         Doc.says("0 if the player has no throws.", () -> {
             Audit x = Halls.loaded(Halls.HALL + "die 0 1;player a;player b;throw b 0 3;");
