@@ -75,12 +75,12 @@ public final class ModelTest {
     private static Object[] arguments(Model model, Method method) {
         Object[] arguments = new Object[method.getParameterCount()];
         for (int i = 0; i < arguments.length; i++) {
-            arguments[i] = below(12) == 0 ? EDGES[below(EDGES.length)] : likely(model, method.getName(), i);
+            arguments[i] = below(12) == 0 ? EDGES[below(EDGES.length)] : likely(model, method.getName(), arguments, i);
         }
         return arguments;
     }
 
-    private static int likely(Model model, String method, int i) {
+    private static int likely(Model model, String method, Object[] arguments, int i) {
         switch (method) {
             case "faces", "isBalanced", "heaviestFace", "nextFace":
                 return below(model.dieCount() + 1);
@@ -94,15 +94,31 @@ public final class ModelTest {
                 return below(2);
             case "outputByte":
                 return below(40);
-            case "weightOf", "faceAfter", "throwsUntil":
-                return i == 0 ? below(model.dieCount() + 1) : 1 + below(method.equals("faceAfter") ? 200 : 7);
+            case "offencePlayer", "offenceDie", "offenceScore":
+                return below(model.offenceCount() + 1);
+            case "faceAfter":
+                return i == 0 ? below(model.dieCount() + 1) : 1 + below(200);
+            case "weightOf", "throwsUntil":
+                return i == 0 ? below(model.dieCount() + 1) : face(model, arguments[0]);
             case "setWeight":
-                return i == 0 ? below(model.dieCount() + 1) : i == 1 ? 1 + below(5) : below(3) * below(5);
-            case "frequency", "scoreAfter", "throwDie":
-                return i == 2 ? 1 + below(method.equals("frequency") ? 6 : 30) : below(3 + i);
+                return i == 0 ? below(model.dieCount() + 1) : i == 1 ? face(model, arguments[0]) : below(3) * below(5);
+            case "frequency":
+                return i < 2 ? ofPair(model, i) : face(model, arguments[1]);
+            case "scoreAfter", "throwDie":
+                return i < 2 ? ofPair(model, i) : 1 + below(30);
             default:
-                return below(4);
+                return ofPair(model, i);
         }
+    }
+
+    /** A player comes first, then a die. */
+    private static int ofPair(Model model, int i) {
+        return below(1 + (i == 0 ? model.playerCount() : model.dieCount()));
+    }
+
+    private static int face(Model model, Object die) {
+        int number = (Integer) die;
+        return 1 + below(1 + (number < 0 || number >= model.dieCount() ? 1 : model.faces(number)));
     }
 
     private static int loadBoth(DiceAudit real, Model model, StringBuilder log, int run) throws ReflectiveOperationException {
@@ -131,14 +147,16 @@ public final class ModelTest {
         }
         StringBuilder text = new StringBuilder();
         text.append("hall ").append(below(65537)).append(' ').append(1 + below(9)).append(' ').append(below(7)).append(';');
-        for (int dice = below(8); dice > 0; dice--) {
+        int dice = below(30) == 0 ? 7 : below(7);
+        for (int die = 0; die < dice; die++) {
             text.append(die());
         }
-        for (int player = 0; player < 4; player++) {
-            text.append("player ").append(NAMES[below(4) == 0 ? below(NAMES.length) : player]).append(";\n");
+        int players = below(30) == 0 ? 7 : 1 + below(6);
+        for (int player = 0; player < players; player++) {
+            text.append("player ").append(NAMES[below(60) == 0 ? below(NAMES.length) : player]).append(";\n");
         }
-        for (int statements = below(20); statements > 0; statements--) {
-            text.append(statement());
+        for (int statements = below(24); statements > 0; statements--) {
+            text.append(statement(players, dice));
         }
         if (text.length() > 600) {
             text.setLength(600);
@@ -148,20 +166,20 @@ public final class ModelTest {
 
     private static String die() {
         StringBuilder die = new StringBuilder("die");
-        int faces = below(5) == 0 ? 1 + below(13) : 2 + below(5);
+        int faces = below(60) == 0 ? 1 + 12 * below(2) : 2 + below(below(3) == 0 ? 11 : 4);
         for (int face = 0; face < faces; face++) {
-            die.append(' ').append(below(60) == 0 ? 10 : below(3) * below(5));
+            die.append(' ').append(below(300) == 0 ? 10 : below(3) == 0 ? 0 : below(10));
         }
         return die.append(';').toString();
     }
 
-    private static String statement() {
-        String name = NAMES[below(20) == 0 ? below(NAMES.length) : below(3)];
-        int choice = below(10);
-        if (choice < 6) {
-            return "throw " + name + " " + below(3) + " " + (1 + below(below(10) == 0 ? 51 : 25)) + ";";
+    private static String statement(int players, int dice) {
+        String name = NAMES[below(60) == 0 ? below(NAMES.length) : below(players)];
+        int choice = below(20);
+        if (choice < 12 && (dice > 0 || below(20) == 0)) {
+            return "throw " + name + " " + below(Math.max(dice, 1)) + " " + (1 + below(below(20) == 0 ? 51 : 25)) + ";";
         }
-        return choice < 8 ? "audit;" : choice == 8 ? "absolve;" : "forgive " + name + ";";
+        return choice < 17 ? "audit;" : choice == 17 ? "absolve;" : "forgive " + name + ";";
     }
 
     private static String spoiled(StringBuilder text) {
